@@ -1,0 +1,169 @@
+/** Promises 32 to 34: the image, and what is counted. */
+public final class ImageTest {
+  private static final Check c = new Check();
+
+  public static void main(String[] args) {
+    imageAndRestore();
+    allThatThereIs();
+    kindsChange();
+    counts();
+    c.end("ImageTest");
+  }
+
+  private static void imageAndRestore() {
+    NoSummer x = Check.world(0);
+    c.due(33, "none yet", x.restore(), -3);
+    c.due(32, "now", x.image(), 0);
+    x.go(5);
+    c.due(33, "now as it was", x.restore(), 0);
+    c.due(34, "now", x.count(3), 0);
+    x.go(7);
+    c.due(32, "a new one", x.image(), 7);
+    x.go(1);
+    c.due(33, "the new one", x.restore(), 7);
+    x.go(2);
+    c.due(33, "once more", x.restore(), 7);
+  }
+
+  private static void allThatThereIs() {
+    NoSummer x = Check.world(0, 1);
+    x.road(0, 1, 12);
+    x.holder(2, 0, 0);
+    x.holder(1, 1, 80);
+    x.holder(4, 0, 6);
+    x.holder(5, 0, 2);
+    x.holder(0, 0, 1);
+    x.field(4, 9);
+    x.goal(2, 1, 20);
+    x.goal(3, 1, 0);
+    x.force(1, 3, Check.law(x, "1=2"));
+    x.gives(0, 0, 300);
+    x.gives(0, 1, 200);
+    x.gives(0, 3, 3);
+    x.gives(4, 0, 90);
+    Check.steadyWeather(x, 0, 7, 4);
+    x.go(6);
+    c.due(32, "a cart is on its way", x.count(4), 1);
+    x.row(0, 0, 4);
+    x.keep(1, 1, 0);
+    long[] then = told(x);
+    c.due(32, "now", x.image(), 6);
+    x.district(2, 3);
+    x.road(0, 1, 3);
+    x.road(1, 2, 3);
+    x.holder(3, 2, 7);
+    x.force(1, 3, -1);
+    x.force(0, 0, Check.law(x, "1=1"));
+    x.goal(2, 0, 3);
+    x.goal(3, 0, 0);
+    x.field(4, 1);
+    x.gives(1, 2, 77);
+    Check.steadyWeather(x, 0, -3, 9);
+    x.put(0, 2, 5);
+    x.keep(1, 1, 4);
+    x.go(26);
+    x.go(26);
+    c.due(33, "now", x.restore(), 6);
+    long[] now = told(x);
+    for (int i = 0; i < then.length; i++) {
+      c.due(33, "what is told at " + i, now[i], then[i]);
+    }
+    c.due(33, "the shelves are as they are", x.element(0, 2), 5);
+    c.due(33, "the shelves are as they are", x.weight(1), 100 + 1 + 1);
+    c.due(33, "weeks behind it are gone", x.record(6, 10), -3);
+    x.go(1);
+    c.due(33, "the cart arrives again", x.about(1, 2), 30);
+    c.due(33, "no new district", x.price(2), -1);
+  }
+
+  private static long[] told(NoSummer x) {
+    long[] all = new long[260];
+    int n = 0;
+    for (int what = 0; what <= 10; what++) {
+      all[n++] = x.count(what);
+    }
+    for (int h = 0; h < 6; h++) {
+      for (int what = 0; what < 16; what++) {
+        all[n++] = x.about(h, what);
+      }
+    }
+    for (int d = 0; d < 3; d++) {
+      all[n++] = x.price(d);
+      all[n++] = x.far(0, d);
+      all[n++] = x.read(0, d);
+    }
+    for (int week = 0; week < 7; week++) {
+      for (int what = 0; what < 13; what++) {
+        all[n++] = x.record(week, what);
+      }
+    }
+    for (int part = 0; part < 5; part++) {
+      all[n++] = x.cart(0, part);
+    }
+    for (int land = 0; land < 4; land++) {
+      all[n++] = x.sky(land, 9, false);
+      all[n++] = x.sky(land, 9, true);
+      all[n++] = x.shut(land);
+      all[n++] = x.worst(land, 2, 0, 30);
+      all[n++] = x.behind(land, 3);
+    }
+    all[n++] = x.may(1, 0, 0);
+    return all;
+  }
+
+  private static void kindsChange() {
+    NoSummer x = Check.world(0);
+    x.holder(0, 0, 4);
+    x.image();
+    x.holder(4, 0, 8);
+    x.goal(1, 0, 9);
+    x.worst(0, 0, -1, 1);
+    x.restore();
+    c.due(33, "the ship is gone", x.about(1, 0), -1);
+    c.due(33, "a farm in its place", x.holder(0, 0, 5), 1);
+    x.field(1, 3);
+    x.worst(0, 0, -1, 1);
+    x.image();
+    x.go(1);
+    x.restore();
+    c.due(33, "its kind", x.about(1, 0), 0);
+    c.due(33, "its field", x.field(1, 0), 3);
+    c.due(33, "its mouths", x.about(1, 6), 5);
+  }
+
+  private static void counts() {
+    NoSummer x = Check.world(0, 1, 2);
+    x.holder(0, 0, 80);
+    x.holder(2, 1, 20);
+    x.field(0, 40);
+    x.gives(0, 0, 2000);
+    x.gives(1, 0, 1000);
+    x.gives(0, 1, 12);
+    x.gives(1, 1, 30);
+    x.gives(0, 2, 7);
+    x.gives(1, 2, 8);
+    x.gives(0, 3, 2);
+    x.gives(1, 3, 3);
+    Check.law(x, "1=1");
+    c.due(34, "districts", x.count(0), 3);
+    c.due(34, "holders", x.count(1), 2);
+    c.due(34, "laws", x.count(2), 1);
+    c.due(34, "now", x.count(3), 0);
+    c.due(34, "carts", x.count(4), 0);
+    c.due(34, "corn", x.count(5), 3000);
+    c.due(34, "oats", x.count(6), 42);
+    c.due(34, "coin", x.count(7), 15);
+    c.due(34, "horses", x.count(8), 5);
+    c.due(34, "mouths", x.count(9), 100);
+    c.due(34, "died", x.count(10), 0);
+    c.due(34, "-1", x.count(-1), -1);
+    c.due(34, "11", x.count(11), -1);
+    x.go(11);
+    c.due(34, "sown is corn", x.count(5), 3000 - 11 * 140);
+    c.due(34, "now", x.count(3), 11);
+    x.go(26);
+    c.due(34, "mouths and dead", x.count(9) + x.count(10), 100);
+    c.due(34, "dead as recorded", x.count(10), x.record(36, 11));
+    c.due(34, "dead as told", x.count(10), x.about(0, 15) + x.about(1, 15));
+  }
+}

@@ -1,0 +1,442 @@
+/** Promises 24 to 31: relief, coin, ships that may be turned, acts. */
+public final class ReliefTest {
+  private static final Check c = new Check();
+
+  public static void main(String[] args) {
+    reliefByRanks();
+    reliefByLaw();
+    reliefRefusals();
+    coin();
+    turn();
+    turning();
+    turningOfSeveral();
+    turningOfTheFirstFive();
+    turningRefusals();
+    turnedRefusals();
+    behind();
+    behindRefusals();
+    worst();
+    worstRefusals();
+    best();
+    bestRefusals();
+    c.end("ReliefTest");
+  }
+
+  /** A store in land 0 and towns of 8, 20, 8 and 5 there, of 30 in land 1. */
+  private static NoSummer hungryTowns() {
+    NoSummer x = Check.world(0, 1, 0);
+    x.holder(3, 0, 0);
+    x.holder(1, 0, 8);
+    x.holder(1, 2, 20);
+    x.holder(1, 0, 8);
+    x.holder(1, 2, 5);
+    x.holder(1, 1, 30);
+    x.holder(5, 0, 40);
+    x.gives(0, 2, 1000);
+    return x;
+  }
+
+  private static void reliefByRanks() {
+    NoSummer x = hungryTowns();
+    c.due(24, "none is hungry", x.relief(0, 100), 0);
+    x.go(1);
+    c.due(24, "the hungriest, then the least of like ones", x.relief(0, 299), 29);
+    c.due(24, "town of 20", x.about(2, 4), 200);
+    c.due(24, "first town of 8", x.about(1, 4), 80);
+    c.due(24, "whole mouths of the second", x.about(3, 4), 10);
+    c.due(24, "none for the least", x.about(4, 4), 0);
+    c.due(24, "none for another land", x.about(5, 4), 0);
+    c.due(24, "none for walkers", x.about(6, 4), 0);
+    c.due(24, "nine stay with the store", x.about(0, 4), 710);
+    c.due(24, "hungry as before", x.relief(0, 710), 41);
+    c.due(24, "more than there is need of", x.about(0, 4), 300);
+    c.due(24, "town of 5", x.about(4, 4), 50);
+    c.due(24, "too little for a mouth", x.relief(0, 9), 0);
+    c.due(24, "nothing went", x.about(0, 4), 300);
+  }
+
+  private static void reliefByLaw() {
+    NoSummer x = hungryTowns();
+    Check.law(x, "h<9&k=1&b=0");
+    Check.law(x, "1=1");
+    x.force(0, 1, 0);
+    x.force(1, 1, 1);
+    c.due(24, "the law holds, none is hungry", x.relief(0, 50), 0);
+    x.go(1);
+    c.due(24, "not the town of 20", x.relief(0, 300), 21);
+    c.due(24, "none to it", x.about(2, 4), 0);
+    c.due(24, "to the others", x.about(4, 4), 50);
+    x.force(0, 1, -1);
+    for (int i = 0; i < 10; i++) {
+      x.gives(2, 2, 9999);
+    }
+    c.due(24, "without the law", x.relief(0, 100), 10);
+    c.due(24, "what would be above is lost", x.about(2, 4), 99999);
+    c.due(24, "and yet given", x.about(0, 4), 1000 - 210 - 100);
+  }
+
+  private static void reliefRefusals() {
+    NoSummer x = hungryTowns();
+    x.gives(1, 2, 500);
+    x.holder(2, 0, 0);
+    x.gives(7, 2, 500);
+    c.due(24, "a town", x.relief(1, 1), -3);
+    c.due(24, "a dealer", x.relief(7, 1), -3);
+    c.due(24, "not so many", x.relief(0, 1001), -3);
+    c.due(24, "just so many", x.relief(0, 1000), 0);
+    c.due(24, "none", x.relief(0, 0), -1);
+    c.due(24, "10000", x.relief(0, 10000), -1);
+    c.due(24, "-1 ahead of -3", x.relief(1, 0), -1);
+    c.due(24, "no holder", x.relief(8, 1), -1);
+    c.due(24, "no holder", x.relief(-1, 1), -1);
+  }
+
+  private static void coin() {
+    NoSummer x = Check.world(0);
+    c.due(25, "bread", x.coin(0, 101, 0), 50);
+    c.due(25, "wage", x.coin(0, 101, 1), 33);
+    c.due(25, "seed", x.coin(0, 101, 2), 300);
+    c.due(25, "bread of one", x.coin(0, 1, 0), 0);
+    x.holder(1, 0, 7);
+    x.go(1);
+    c.due(25, "bread at 23", x.coin(0, 101, 0), 43);
+    c.due(25, "seed at 23", x.coin(0, 101, 2), 258);
+    c.due(25, "9999 at 23", x.coin(0, 9999, 0), 4347);
+    c.due(25, "none", x.coin(0, 0, 0), -1);
+    c.due(25, "10000", x.coin(0, 10000, 0), -1);
+    c.due(25, "as 3", x.coin(0, 1, 3), -1);
+    c.due(25, "as -1", x.coin(0, 1, -1), -1);
+    c.due(25, "no district", x.coin(1, 1, 0), -1);
+    c.due(25, "no district", x.coin(-1, 1, 1), -1);
+  }
+
+  private static void turn() {
+    NoSummer x = Check.world(0, 0, 0, 0);
+    x.road(0, 1, 19);
+    x.road(1, 2, 11);
+    x.holder(4, 0, 0);
+    x.holder(1, 0, 0);
+    c.due(26, "it lies", x.turn(0, 1, 0), -3);
+    x.goal(0, 0, 6);
+    c.due(26, "the word comes too late", x.turn(0, 1, 6), -3);
+    c.due(26, "19 by 10, cut", x.turn(0, 1, 5), 7);
+    c.due(26, "its goal", x.about(0, 14), 1);
+    c.due(26, "its weeks", x.about(0, 13), 7);
+    c.due(26, "to where it goes", x.turn(0, 1, 0), 7);
+    c.due(26, "no way", x.turn(0, 3, 0), -3);
+    c.due(26, "its goal as it was", x.about(0, 14), 1);
+    x.turn(0, 2, 0);
+    c.due(26, "by the least leagues from its goal", x.turn(0, 0, 7), 11);
+    c.due(26, "word 31", x.turn(0, 1, 31), -1);
+    c.due(26, "word -1", x.turn(0, 1, -1), -1);
+    c.due(26, "no district", x.turn(0, 4, 0), -1);
+    c.due(26, "no ship", x.turn(1, 1, 0), -1);
+    c.due(26, "no holder", x.turn(2, 1, 0), -1);
+    c.due(26, "no holder", x.turn(-1, 1, 0), -1);
+    x.go(11);
+    c.due(26, "it arrived", x.about(0, 1), 0);
+    c.due(26, "it can't be turned any more", x.turn(0, 1, 0), -3);
+    x.goal(0, 0, 30);
+    c.due(26, "beyond 30", x.turn(0, 2, 29), 33);
+    c.due(26, "word 30", x.turn(0, 0, 30), 36);
+  }
+
+  private static void ship(NoSummer x, int number, int corn, int goal, int weeks) {
+    x.holder(4, 0, 0);
+    x.gives(number, 0, corn);
+    x.goal(number, goal, weeks);
+  }
+
+  private static void turning() {
+    NoSummer x = Check.world(0, 1, 2);
+    ship(x, 0, 150, 0, 5);
+    ship(x, 1, 300, 1, 9);
+    Check.list(x, 0, 1, 2);
+    c.due(27, "nobody eats there", x.turning(0, 0), 0);
+    x.holder(1, 1, 20);
+    x.holder(1, 2, 3);
+    x.holder(1, 2, 2);
+    x.holder(5, 2, 400);
+    x.holder(2, 2, 400);
+    c.due(27, "200 and 50, without ways", x.turning(0, 2), 250);
+    c.due(28, "the first is turned", x.turned(0, 2, 0), 2);
+    c.due(28, "the second isn't", x.turned(0, 2, 1), 1);
+    c.due(27, "a word too late for the first", x.turning(0, 5), 200);
+    c.due(28, "the first keeps its goal", x.turned(0, 5, 0), 0);
+    c.due(27, "a word too late for both", x.turning(0, 9), 200);
+    Check.list(x, 1, 2);
+    c.due(27, "another list", x.turning(1, 4), 250);
+    Check.list(x, 2, 0, 0, 0);
+    c.due(27, "the same thrice", x.turning(2, 4), 200);
+    c.due(28, "kept", x.turned(2, 4, 1), 1);
+    c.due(28, "asking turns none", x.about(0, 14), 0);
+    x.goal(1, 1, 0);
+    c.due(27, "one that lies isn't among them", x.turning(0, 2), 150);
+    c.due(28, "it isn't", x.turned(0, 2, 1), -4);
+    c.due(28, "the first of the list", x.turned(0, 2, 0), 1);
+    NoSummer y = Check.world(0);
+    Check.list(y, 0, 0);
+    c.due(27, "no ships", y.turning(0, 0), 0);
+  }
+
+  private static void turningOfSeveral() {
+    NoSummer x = Check.world(0, 0, 0, 0);
+    ship(x, 0, 100, 0, 5);
+    ship(x, 1, 100, 0, 5);
+    x.holder(1, 1, 10);
+    x.holder(1, 2, 10);
+    x.holder(1, 3, 10);
+    Check.list(x, 0, 3, 1, 2);
+    c.due(27, "two of three", x.turning(0, 0), 200);
+    c.due(28, "the first of the list", x.turned(0, 0, 0), 3);
+    c.due(28, "then the next", x.turned(0, 0, 1), 1);
+    x.goal(0, 2, 5);
+    c.due(28, "the first keeps its goal ahead of the list", x.turned(0, 0, 0), 2);
+    c.due(28, "the next goes first in the list", x.turned(0, 0, 1), 3);
+    x.goal(0, 0, 5);
+    x.goal(1, 3, 5);
+    c.due(27, "200 still", x.turning(0, 0), 200);
+    c.due(28, "the first ship's choice counts most", x.turned(0, 0, 0), 3);
+    c.due(28, "the next turns, since the first took its goal", x.turned(0, 0, 1), 1);
+    Check.list(x, 0, 1, 2);
+    c.due(28, "the first of that list", x.turned(0, 0, 0), 1);
+    c.due(28, "it keeps its goal", x.turned(0, 0, 1), 3);
+    NoSummer y = Check.world(0, 0);
+    ship(y, 0, 50, 0, 5);
+    ship(y, 1, 50, 0, 5);
+    y.holder(1, 1, 5);
+    Check.list(y, 0, 1);
+    c.due(27, "one is enough", y.turning(0, 0), 50);
+    c.due(28, "the first stays", y.turned(0, 0, 0), 0);
+    c.due(28, "the second goes", y.turned(0, 0, 1), 1);
+  }
+
+  private static void turningOfTheFirstFive() {
+    NoSummer x = Check.world(0, 0, 0);
+    ship(x, 0, 10, 0, 0);
+    for (int i = 1; i < 7; i++) {
+      ship(x, i, 10, 0, 5);
+    }
+    x.holder(1, 1, 3);
+    x.holder(1, 2, 50);
+    Check.list(x, 0, 1, 2);
+    c.due(27, "five of ten each", x.turning(0, 0), 50);
+    c.due(28, "three to the first", x.turned(0, 0, 1), 1);
+    c.due(28, "three to the first", x.turned(0, 0, 3), 1);
+    c.due(28, "the others to the second", x.turned(0, 0, 4), 2);
+    c.due(28, "the fifth", x.turned(0, 0, 5), 2);
+    c.due(28, "the sixth isn't among them", x.turned(0, 0, 6), -4);
+    c.due(28, "the one that lies isn't", x.turned(0, 0, 0), -4);
+    x.goal(1, 0, 0);
+    c.due(28, "the sixth is the fifth now", x.turned(0, 0, 6), 2);
+  }
+
+  private static void turningRefusals() {
+    NoSummer x = Check.world(0, 1);
+    ship(x, 0, 10, 0, 5);
+    Check.list(x, 0, 1);
+    c.due(27, "no shelf", x.turning(8, 0), -1);
+    c.due(27, "no shelf", x.turning(-1, 0), -1);
+    c.due(27, "word -1", x.turning(0, -1), -1);
+    c.due(27, "word 31", x.turning(0, 31), -1);
+    c.due(27, "-1 ahead of -11", x.turning(1, 31), -1);
+    c.due(27, "word 30", x.turning(0, 30), 0);
+    c.due(27, "nothing", x.turning(1, 0), -11);
+    x.keep(1, 1, 0);
+    c.due(27, "a holder", x.turning(1, 0), -12);
+    x.row(1, 1, 1);
+    c.due(27, "shorts", x.turning(1, 0), -12);
+    x.row(1, 0, 0);
+    c.due(27, "none", x.turning(1, 0), -13);
+    Check.list(x, 1, 0, 1, 0, 1);
+    c.due(27, "four", x.turning(1, 0), -13);
+    Check.list(x, 1, 0, 1, 2);
+    c.due(27, "no such district", x.turning(1, 0), -13);
+    Check.list(x, 1, -1);
+    c.due(27, "no such district", x.turning(1, 0), -13);
+  }
+
+  private static void turnedRefusals() {
+    NoSummer x = Check.world(0, 1);
+    ship(x, 0, 10, 0, 5);
+    x.holder(2, 0, 0);
+    ship(x, 2, 10, 0, 0);
+    Check.list(x, 0, 1);
+    c.due(28, "no shelf", x.turned(8, 0, 0), -1);
+    c.due(28, "word 31", x.turned(0, 31, 0), -1);
+    c.due(28, "word -1", x.turned(0, -1, 0), -1);
+    c.due(28, "no ship", x.turned(0, 0, 1), -1);
+    c.due(28, "no holder", x.turned(0, 0, 3), -1);
+    c.due(28, "no holder", x.turned(0, 0, -1), -1);
+    c.due(28, "-1 ahead of -11", x.turned(1, 0, 1), -1);
+    c.due(28, "nothing", x.turned(1, 0, 0), -11);
+    c.due(28, "-4 ahead of -11", x.turned(1, 0, 2), -4);
+    x.keep(1, 1, 0);
+    c.due(28, "a holder", x.turned(1, 0, 0), -12);
+    x.row(1, 2, 1);
+    c.due(28, "ints", x.turned(1, 0, 0), -12);
+    c.due(28, "-4 ahead of -12", x.turned(1, 0, 2), -4);
+    Check.list(x, 1, 0, 0, 0, 0);
+    c.due(28, "four", x.turned(1, 0, 0), -13);
+    c.due(28, "-4 ahead of -13", x.turned(1, 0, 2), -4);
+  }
+
+  private static void behind() {
+    NoSummer x = new NoSummer();
+    Check.law(x, "r>0");
+    Check.law(x, "r>1");
+    Check.law(x, "1=1");
+    Check.law(x, "r=0");
+    x.force(1, 0, 0);
+    x.force(2, 0, 1);
+    c.due(29, "r is of the week ahead", x.behind(0, 1), 0);
+    c.due(29, "the next week land 1", x.behind(0, 2), 2);
+    c.due(29, "then land 2 as well", x.behind(0, 3), 2 + 4);
+    c.due(29, "whom land 2 shuts", x.behind(2, 3), 2);
+    c.due(29, "its own law doesn't matter", x.force(0, 0, 2), -4);
+    c.due(29, "the same", x.behind(0, 3), 2 + 4);
+    x.force(0, 0, -1);
+    x.force(3, 0, 3);
+    c.due(29, "land 3 sets off land 1 in either case", x.behind(0, 4), 4);
+    x.force(3, 0, 2);
+    c.due(29, "land 1 is shut in either case, behind land 3", x.behind(0, 2), 4);
+    c.due(29, "a week later land 2, too", x.behind(0, 3), 0);
+    c.due(29, "one week ahead of that", x.behind(1, 2), 4);
+    c.due(29, "now as it was", x.count(3), 0);
+    x.go(3);
+    c.due(29, "the real weeks weren't touched", x.record(0, 12), 8);
+    c.due(29, "nor the laws", x.record(2, 12), 2 + 4 + 8);
+  }
+
+  private static void behindRefusals() {
+    NoSummer x = new NoSummer();
+    c.due(29, "land 4", x.behind(4, 1), -1);
+    c.due(29, "land -1", x.behind(-1, 1), -1);
+    c.due(29, "0 weeks", x.behind(0, 0), -1);
+    c.due(29, "31 weeks", x.behind(0, 31), -1);
+    c.due(29, "30 weeks", x.behind(0, 30), 0);
+    for (int i = 0; i < 5; i++) {
+      x.go(26);
+    }
+    c.due(29, "beyond 156", x.behind(0, 27), -2);
+    c.due(29, "to 156", x.behind(0, 26), 0);
+    c.due(29, "-1 ahead of -2", x.behind(0, 31), -1);
+    c.due(29, "still now", x.count(3), 130);
+  }
+
+  /** A farm that has just enough to the harvest, in week 10. */
+  private static NoSummer farmBeforeHarvest(int warm) {
+    NoSummer x = Check.world(1);
+    x.holder(0, 0, 2);
+    x.field(0, 10);
+    x.gives(0, 0, 30 + 10 + 75);
+    Check.steadyWeather(x, 1, warm, 5);
+    x.go(10);
+    return x;
+  }
+
+  private static void worst() {
+    NoSummer x = farmBeforeHarvest(2);
+    c.due(30, "to the week ahead of the harvest", x.worst(0, 0, -1, 25), 0);
+    c.due(30, "3 less warm: no harvest", x.worst(0, 0, -1, 26), 2);
+    x = farmBeforeHarvest(5);
+    c.due(30, "3 less warm: harvest enough", x.worst(0, 0, -1, 30), 0);
+    c.due(30, "nothing went by", x.count(3), 10);
+    x.go(26);
+    c.due(30, "warm as it was: 10 by 115 by 20, less 3", x.about(0, 2), 57 - 3);
+    NoSummer y = Check.world(0);
+    y.holder(1, 0, 80);
+    c.due(30, "the greatest week, the first", y.worst(0, 0, -1, 5), 80);
+    y.gives(0, 0, 150);
+    c.due(30, "the third", y.worst(0, 0, -1, 3), 80);
+    c.due(30, "the second", y.worst(0, 0, -1, 2), 10);
+    c.due(30, "the first", y.worst(0, 0, -1, 1), 0);
+    NoSummer z = Check.world(0);
+    z.holder(1, 0, 10);
+    z.holder(3, 0, 0);
+    z.gives(0, 2, 1000);
+    z.gives(1, 0, 120);
+    Check.law(z, "k=3");
+    Check.law(z, "k=2");
+    c.due(30, "none: the store keeps it", z.worst(0, 2, -1, 2), 10);
+    c.due(30, "by the law it sells", z.worst(0, 2, 0, 2), 0);
+    c.due(30, "for two weeks", z.worst(0, 2, 0, 3), 10);
+    c.due(30, "another purpose", z.worst(0, 0, 0, 2), 10);
+    c.due(30, "another land", z.worst(1, 2, 0, 2), 10);
+    z.force(0, 2, 0);
+    c.due(30, "none in the place of it", z.worst(0, 2, -1, 2), 10);
+    c.due(30, "it is still in force", z.force(0, 2, 1), 0);
+  }
+
+  private static void worstRefusals() {
+    NoSummer x = new NoSummer();
+    Check.law(x, "1=1");
+    c.due(30, "land 4", x.worst(4, 0, 0, 1), -1);
+    c.due(30, "land -1", x.worst(-1, 0, 0, 1), -1);
+    c.due(30, "purpose 4", x.worst(0, 4, 0, 1), -1);
+    c.due(30, "purpose -1", x.worst(0, -1, 0, 1), -1);
+    c.due(30, "law 1", x.worst(0, 0, 1, 1), -1);
+    c.due(30, "law -2", x.worst(0, 0, -2, 1), -1);
+    c.due(30, "0 weeks", x.worst(0, 0, 0, 0), -1);
+    c.due(30, "31 weeks", x.worst(0, 0, 0, 31), -1);
+    for (int i = 0; i < 6; i++) {
+      x.go(26);
+    }
+    c.due(30, "beyond 156", x.worst(0, 0, 0, 1), -2);
+    c.due(30, "-1 ahead of -2", x.worst(0, 0, 1, 1), -1);
+  }
+
+  private static void best() {
+    NoSummer x = Check.world(0);
+    x.holder(1, 0, 10);
+    x.holder(3, 0, 0);
+    x.gives(0, 2, 1000);
+    x.gives(1, 0, 120);
+    c.due(31, "no laws: none", x.best(0, 2, 2), -4);
+    Check.law(x, "k=2");
+    c.due(31, "of several the first: none", x.best(0, 2, 2), -4);
+    Check.law(x, "k=3");
+    Check.law(x, "1=1");
+    c.due(31, "of several the first", x.best(0, 2, 2), 1);
+    c.due(31, "in three weeks all are alike", x.best(0, 2, 3), -4);
+    c.due(31, "another purpose", x.best(0, 1, 2), -4);
+    c.due(31, "another land", x.best(2, 2, 2), -4);
+    x.force(0, 2, 2);
+    c.due(31, "whatever is in force", x.best(0, 2, 2), 1);
+    c.due(31, "it is still in force", x.force(0, 2, -1), 2);
+    NoSummer y = Check.world(0);
+    y.holder(1, 0, 10);
+    y.holder(3, 0, 0);
+    y.gives(0, 2, 1000);
+    y.gives(1, 0, 120);
+    for (int i = 0; i < 8; i++) {
+      Check.law(y, i == 7 ? "c>100" : "1=2");
+    }
+    c.due(31, "law 7", y.best(0, 2, 2), 7);
+    NoSummer z = Check.world(0);
+    z.holder(1, 0, 10);
+    z.holder(3, 0, 0);
+    z.gives(0, 2, 1000);
+    z.gives(1, 0, 120);
+    for (int i = 0; i < 9; i++) {
+      Check.law(z, i == 8 ? "c>100" : "1=2");
+    }
+    c.due(31, "law 8 isn't asked", z.best(0, 2, 2), -4);
+    c.due(30, "though it is better", z.worst(0, 2, 8, 2), 0);
+  }
+
+  private static void bestRefusals() {
+    NoSummer x = new NoSummer();
+    c.due(31, "land 4", x.best(4, 0, 1), -1);
+    c.due(31, "land -1", x.best(-1, 0, 1), -1);
+    c.due(31, "purpose 4", x.best(0, 4, 1), -1);
+    c.due(31, "purpose -1", x.best(0, -1, 1), -1);
+    c.due(31, "0 weeks", x.best(0, 0, 0), -1);
+    c.due(31, "31 weeks", x.best(0, 0, 31), -1);
+    for (int i = 0; i < 6; i++) {
+      x.go(26);
+    }
+    c.due(31, "beyond 156", x.best(0, 0, 1), -2);
+    c.due(31, "-1 ahead of -2", x.best(0, 4, 1), -1);
+  }
+}
