@@ -636,7 +636,7 @@ public final class NoSummer {
     for (int i = 0; i < HOLDERS && left >= 10; i++) {
       int next = nextInNeed(land, done);
       Holder town = world.holderAt(next);
-      if (town == null || next >= done.length) {
+      if (town == null || next < 0 || next >= done.length) {
         return relieved;
       }
       done[next] = true;
@@ -1117,8 +1117,7 @@ public final class NoSummer {
 
     /** Whether the least number of the sort stands there. */
     boolean isMissing(int i) {
-      int least = sort == BYTES ? Byte.MIN_VALUE : sort == SHORTS ? Short.MIN_VALUE
-          : Integer.MIN_VALUE;
+      int least = sort == BYTES ? -128 : sort == SHORTS ? -32768 : -2147483648;
       return i >= 0 && i < elements.length && elements[i] == least;
     }
 
@@ -1322,16 +1321,13 @@ public final class NoSummer {
     final Row[] warm = new Row[LANDS];
     final Row[] wet = new Row[LANDS];
     final Law[] laws = new Law[LAWS];
+    /** By lands and purposes the law's number and one more, so that none is 0. */
     final int[] inForce = new int[LANDS * PURPOSES];
     final Holder[] holders = new Holder[HOLDERS];
     final int[] carts = new int[CARTS * CART_PARTS];
     final int[] records = new int[WEEKS * RECORD_PARTS];
     /** What the fields of a law are, as told last. */
     final int[] fields = new int[10];
-
-    World() {
-      Arrays.fill(inForce, -1);
-    }
 
     // -- the map
 
@@ -1500,11 +1496,11 @@ public final class NoSummer {
     }
 
     int lawInForce(int land, int purpose) {
-      return at(inForce, land * PURPOSES + purpose);
+      return at(inForce, land * PURPOSES + purpose) - 1;
     }
 
     void enforces(int land, int purpose, int law) {
-      set(inForce, land * PURPOSES + purpose, law);
+      set(inForce, land * PURPOSES + purpose, law + 1);
     }
 
     /** Whether the law in force for a purpose of a land holds; else what is so without one. */

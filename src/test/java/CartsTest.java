@@ -9,6 +9,8 @@ public final class CartsTest {
     soldToTowns();
     broughtBack();
     oatsAndLoad();
+    severalOnTheirWay();
+    pricesPaid();
     twelveAtMost();
     brings();
     c.end("CartsTest");
@@ -162,6 +164,7 @@ public final class CartsTest {
 
   private static void oatsAndLoad() {
     c.due(18, "corn at most", carts(15, 100, 2), 15);
+    c.due(18, "one bushel", carts(1, 100, 2), 1);
     c.due(18, "ten a horse", carts(50, 100, 2), 20);
     c.due(18, "oats enough: 6 weeks of 2, and 3", carts(50, 15, 2), 20);
     c.due(18, "one too few", carts(50, 14, 2), -1);
@@ -180,6 +183,52 @@ public final class CartsTest {
     x.go(1);
     c.due(18, "the dealer's cart, no store's", x.count(4), 1);
     c.due(22, "of the dealer", x.cart(0, 0), 0);
+  }
+
+  /** Dealers in district 2, 18 leagues from the towns of 0 and 11 from those of 1. */
+  private static void severalOnTheirWay() {
+    NoSummer x = Check.world(0, 0, 0);
+    x.road(2, 0, 18);
+    x.holder(2, 2, 0);
+    x.holder(2, 2, 0);
+    x.holder(1, 0, 7);
+    x.holder(1, 1, 7);
+    x.gives(0, 0, 11);
+    x.gives(1, 0, 12);
+    x.gives(0, 1, 100);
+    x.gives(1, 1, 100);
+    x.gives(1, 3, 2);
+    x.go(8);
+    // 40 as read in week 7 is the first above 19 and 18.
+    c.due(22, "one, to district 0", x.count(4), 1);
+    c.due(22, "its district", x.cart(0, 1), 0);
+    c.due(22, "its leagues left", x.cart(0, 4), 8);
+    x.road(2, 1, 11);
+    x.gives(0, 3, 3);
+    x.go(1);
+    c.due(22, "the first arrived, the second goes", x.count(4), 1);
+    c.due(22, "its dealer", x.cart(0, 0), 0);
+    c.due(22, "its district", x.cart(0, 1), 1);
+    c.due(22, "its corn", x.cart(0, 2), 11);
+    c.due(22, "its horses", x.cart(0, 3), 3);
+    c.due(22, "one league left", x.cart(0, 4), 1);
+    x.go(1);
+    c.due(18, "arrived", x.count(4), 0);
+    c.due(18, "corn of both but what was eaten", x.about(2, 2) + x.about(3, 2), 12 - 7 + 11);
+  }
+
+  private static void pricesPaid() {
+    NoSummer x = markets(new int[] {1}, new int[] {7});
+    x.gives(0, 0, 25);
+    x.gives(0, 1, 9);
+    x.gives(1, 2, 500);
+    x.go(3);
+    c.due(7, "price there", x.price(1), 29);
+    x.gives(0, 3, 2);
+    x.go(1);
+    c.due(18, "2 for each of 20", x.about(0, 4), 40);
+    c.due(18, "the town pays", x.about(1, 4), 460);
+    c.due(18, "the town has them", x.about(1, 2), 20);
   }
 
   private static void twelveAtMost() {
@@ -218,6 +267,9 @@ public final class CartsTest {
     NoSummer x = Check.world(0, 0, 0, 1);
     x.road(0, 1, 12);
     x.road(1, 2, 30);
+    x.road(0, 1, 11);
+    c.due(23, "1.1 rounded up", x.brings(0, 1, 1), 8);
+    x.road(0, 1, 12);
     c.due(23, "10 horses", x.brings(0, 1, 10), 88);
     c.due(23, "1 horse", x.brings(0, 1, 1), 8);
     c.due(23, "by 42 leagues", x.brings(2, 0, 99), 990 - 416);

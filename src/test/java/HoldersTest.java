@@ -132,6 +132,8 @@ public final class HoldersTest {
     x.holder(1, 0, 80);
     x.holder(0, 0, 0);
     c.due(12, "what -1", x.about(0, -1), -1);
+    c.due(12, "nothing sown at first", x.about(1, 11), 0);
+    c.due(12, "growth at first", x.about(1, 12), 0);
     c.due(12, "what 16", x.about(0, 16), -1);
     c.due(12, "no holder", x.about(2, 0), -1);
     c.due(12, "no holder", x.about(-1, 0), -1);

@@ -5,6 +5,8 @@ public final class ImageTest {
   public static void main(String[] args) {
     imageAndRestore();
     allThatThereIs();
+    cartsAndRoads();
+    theMidstOfTheYear();
     kindsChange();
     counts();
     c.end("ImageTest");
@@ -76,6 +78,44 @@ public final class ImageTest {
     c.due(33, "no new district", x.price(2), -1);
   }
 
+  private static void cartsAndRoads() {
+    NoSummer x = Check.world(0, 0);
+    x.road(0, 1, 22);
+    x.holder(2, 0, 0);
+    x.holder(1, 1, 7);
+    x.gives(0, 0, 500);
+    x.gives(0, 1, 500);
+    x.gives(0, 3, 3);
+    // 45 as read in week 9 is the first price above 19 and 22.
+    x.go(10);
+    c.due(32, "leagues left", x.cart(0, 4), 12);
+    x.image();
+    x.go(1);
+    c.due(22, "leagues left a week later", x.cart(0, 4), 2);
+    x.road(0, 1, 5);
+    x.restore();
+    c.due(33, "leagues left", x.cart(0, 4), 12);
+    c.due(33, "its corn", x.cart(0, 2), 30);
+    c.due(33, "far", x.far(0, 1), 22);
+    c.due(33, "the road", x.road(0, 1, 22), 22);
+  }
+
+  private static void theMidstOfTheYear() {
+    NoSummer x = Check.world(0);
+    x.holder(0, 0, 0);
+    x.field(0, 8);
+    x.gives(0, 0, 9);
+    Check.steadyWeather(x, 0, 9, 5);
+    x.go(20);
+    x.image();
+    x.go(20);
+    c.due(18, "harvest: 8 by 207 by 20, cut", x.about(0, 2), 1 + 82);
+    x.restore();
+    c.due(33, "sown", x.about(0, 11), 8);
+    c.due(33, "growth", x.about(0, 12), 8 * 9);
+    c.due(33, "corn", x.about(0, 2), 1);
+  }
+
   private static long[] told(NoSummer x) {
     long[] all = new long[260];
     int n = 0;
@@ -122,7 +162,7 @@ public final class ImageTest {
     c.due(33, "the ship is gone", x.about(1, 0), -1);
     c.due(33, "a farm in its place", x.holder(0, 0, 5), 1);
     x.field(1, 3);
-    x.worst(0, 0, -1, 1);
+    c.due(30, "two hungry farms in mind, no ship", x.worst(0, 0, -1, 1), 3 + 4);
     x.image();
     x.go(1);
     x.restore();

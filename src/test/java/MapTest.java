@@ -65,6 +65,7 @@ public final class MapTest {
 
   private static void ways() {
     NoSummer x = Check.world(0, 0, 0, 0, 1);
+    c.due(4, "no roads at all", x.far(0, 1), -4);
     x.road(0, 1, 10);
     x.road(1, 2, 10);
     x.road(0, 2, 25);

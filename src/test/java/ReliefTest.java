@@ -16,6 +16,7 @@ public final class ReliefTest {
     behind();
     behindRefusals();
     worst();
+    worstWithNews();
     worstRefusals();
     best();
     bestRefusals();
@@ -53,6 +54,18 @@ public final class ReliefTest {
     c.due(24, "town of 5", x.about(4, 4), 50);
     c.due(24, "too little for a mouth", x.relief(0, 9), 0);
     c.due(24, "nothing went", x.about(0, 4), 300);
+    c.due(24, "just enough for one", x.relief(0, 10), 1);
+    NoSummer y = Check.world(0, 1);
+    y.holder(1, 0, 1);
+    y.holder(3, 0, 0);
+    y.holder(3, 1, 0);
+    y.gives(1, 2, 9999);
+    y.gives(2, 2, 9999);
+    y.go(1);
+    c.due(24, "the first holder, of another land", y.relief(2, 9999), 0);
+    c.due(24, "it got none", y.about(0, 4), 0);
+    c.due(24, "the first holder, one hungry", y.relief(1, 9999), 1);
+    c.due(24, "it got ten", y.about(0, 4), 10);
   }
 
   private static void reliefByLaw() {
@@ -174,9 +187,15 @@ public final class ReliefTest {
     c.due(27, "one that lies isn't among them", x.turning(0, 2), 150);
     c.due(28, "it isn't", x.turned(0, 2, 1), -4);
     c.due(28, "the first of the list", x.turned(0, 2, 0), 1);
-    NoSummer y = Check.world(0);
+    NoSummer y = Check.world(0, 0);
     Check.list(y, 0, 0);
     c.due(27, "no ships", y.turning(0, 0), 0);
+    ship(y, 0, 30, 1, 1);
+    y.holder(1, 0, 2);
+    c.due(27, "one week to go, told at once", y.turning(0, 0), 20);
+    c.due(28, "turned", y.turned(0, 0, 0), 0);
+    c.due(27, "told in a week", y.turning(0, 1), 0);
+    c.due(28, "too late", y.turned(0, 1, 0), 1);
   }
 
   private static void turningOfSeveral() {
@@ -198,6 +217,9 @@ public final class ReliefTest {
     c.due(27, "200 still", x.turning(0, 0), 200);
     c.due(28, "the first ship's choice counts most", x.turned(0, 0, 0), 3);
     c.due(28, "the next turns, since the first took its goal", x.turned(0, 0, 1), 1);
+    Check.list(x, 0, 0, 0, 2);
+    c.due(27, "the third of a list", x.turning(0, 0), 200);
+    c.due(28, "goes where most are served", x.turned(0, 0, 0), 2);
     Check.list(x, 0, 1, 2);
     c.due(28, "the first of that list", x.turned(0, 0, 0), 1);
     c.due(28, "it keeps its goal", x.turned(0, 0, 1), 3);
@@ -325,8 +347,9 @@ public final class ReliefTest {
   }
 
   /** A farm that has just enough to the harvest, in week 10. */
-  private static NoSummer farmBeforeHarvest(int warm) {
-    NoSummer x = Check.world(1);
+  private static NoSummer farmBeforeHarvest(int warm, int height) {
+    NoSummer x = new NoSummer();
+    x.district(1, height);
     x.holder(0, 0, 2);
     x.field(0, 10);
     x.gives(0, 0, 30 + 10 + 75);
@@ -336,11 +359,18 @@ public final class ReliefTest {
   }
 
   private static void worst() {
-    NoSummer x = farmBeforeHarvest(2);
+    NoSummer x = farmBeforeHarvest(2, 0);
     c.due(30, "to the week ahead of the harvest", x.worst(0, 0, -1, 25), 0);
     c.due(30, "3 less warm: no harvest", x.worst(0, 0, -1, 26), 2);
-    x = farmBeforeHarvest(5);
+    x = farmBeforeHarvest(5, 2);
+    c.due(30, "3 less warm at a height: no harvest", x.worst(0, 0, -1, 30), 2);
+    x = farmBeforeHarvest(3, 0);
+    c.due(30, "3 less warm than 3", x.worst(0, 0, -1, 30), 2);
+    x = farmBeforeHarvest(5, 0);
     c.due(30, "3 less warm: harvest enough", x.worst(0, 0, -1, 30), 0);
+    x.go(15);
+    c.due(30, "from the midst of the year", x.worst(0, 0, -1, 15), 0);
+    x = farmBeforeHarvest(5, 0);
     c.due(30, "nothing went by", x.count(3), 10);
     x.go(26);
     c.due(30, "warm as it was: 10 by 115 by 20, less 3", x.about(0, 2), 57 - 3);
@@ -363,9 +393,33 @@ public final class ReliefTest {
     c.due(30, "for two weeks", z.worst(0, 2, 0, 3), 10);
     c.due(30, "another purpose", z.worst(0, 0, 0, 2), 10);
     c.due(30, "another land", z.worst(1, 2, 0, 2), 10);
+    Check.law(z, "r=0");
+    c.due(30, "no land is shut", z.worst(0, 2, 2, 2), 0);
+    z.force(0, 0, Check.law(z, "1=1"));
+    c.due(30, "one is", z.worst(0, 2, 2, 2), 10);
     z.force(0, 2, 0);
     c.due(30, "none in the place of it", z.worst(0, 2, -1, 2), 10);
     c.due(30, "it is still in force", z.force(0, 2, 1), 0);
+  }
+
+  /** A town that has corn until a cart comes, if the news of its prices is known. */
+  private static void worstWithNews() {
+    NoSummer x = Check.world(0, 0);
+    x.road(0, 1, 12);
+    x.holder(2, 0, 0);
+    x.holder(1, 1, 7);
+    x.gives(0, 0, 400);
+    x.gives(0, 1, 100);
+    x.gives(0, 3, 3);
+    x.gives(1, 0, 4 * 7);
+    x.go(4);
+    x.gives(1, 0, 3 * 7);
+    x.go(1);
+    c.due(30, "a cart goes in week 5, and is there in time", x.worst(0, 0, -1, 6), 0);
+    c.due(30, "it was in mind", x.count(4), 0);
+    x.go(1);
+    c.due(30, "a cart that is on its way", x.worst(0, 0, -1, 5), 0);
+    c.due(22, "it is still on its way", x.cart(0, 2), 30);
   }
 
   private static void worstRefusals() {
@@ -379,9 +433,12 @@ public final class ReliefTest {
     c.due(30, "law -2", x.worst(0, 0, -2, 1), -1);
     c.due(30, "0 weeks", x.worst(0, 0, 0, 0), -1);
     c.due(30, "31 weeks", x.worst(0, 0, 0, 31), -1);
-    for (int i = 0; i < 6; i++) {
+    for (int i = 0; i < 5; i++) {
       x.go(26);
     }
+    c.due(30, "to 156", x.worst(0, 0, 0, 26), 0);
+    c.due(30, "beyond it", x.worst(0, 0, 0, 27), -2);
+    x.go(26);
     c.due(30, "beyond 156", x.worst(0, 0, 0, 1), -2);
     c.due(30, "-1 ahead of -2", x.worst(0, 0, 1, 1), -1);
   }
@@ -404,6 +461,13 @@ public final class ReliefTest {
     x.force(0, 2, 2);
     c.due(31, "whatever is in force", x.best(0, 2, 2), 1);
     c.due(31, "it is still in force", x.force(0, 2, -1), 2);
+    NoSummer w = Check.world(0);
+    w.holder(1, 0, 10);
+    w.holder(3, 0, 0);
+    w.gives(0, 2, 1000);
+    w.gives(1, 0, 120);
+    Check.law(w, "k=3");
+    c.due(31, "law 0", w.best(0, 2, 2), 0);
     NoSummer y = Check.world(0);
     y.holder(1, 0, 10);
     y.holder(3, 0, 0);
@@ -433,9 +497,12 @@ public final class ReliefTest {
     c.due(31, "purpose -1", x.best(0, -1, 1), -1);
     c.due(31, "0 weeks", x.best(0, 0, 0), -1);
     c.due(31, "31 weeks", x.best(0, 0, 31), -1);
-    for (int i = 0; i < 6; i++) {
+    for (int i = 0; i < 5; i++) {
       x.go(26);
     }
+    c.due(31, "to 156", x.best(0, 0, 26), -4);
+    c.due(31, "beyond it", x.best(0, 0, 27), -2);
+    x.go(26);
     c.due(31, "beyond 156", x.best(0, 0, 1), -2);
     c.due(31, "-1 ahead of -2", x.best(0, 4, 1), -1);
   }

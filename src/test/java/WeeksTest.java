@@ -130,9 +130,14 @@ public final class WeeksTest {
     Check.steadyWeather(x, 2, warm, wet);
     x.go(13);
     c.due(18, "growth at " + warm + ", " + wet, x.about(0, 12), weekly);
-    x.go(22);
-    c.due(18, "growth of all weeks", x.about(0, 12), 23 * weekly);
+    x.go(17);
+    c.due(18, "no oats ahead of week 30", x.about(0, 3), 0);
+    x.go(1);
     c.due(18, "oats of week 30", x.about(0, 3), 5);
+    x.go(4);
+    c.due(18, "growth of all weeks", x.about(0, 12), 23 * weekly);
+    c.due(18, "no harvest ahead of week 35", x.about(0, 11), 20);
+    c.due(18, "no oats but then", x.about(0, 3), 5);
     x.go(1);
     c.due(18, "harvest at " + warm + ", " + wet, x.about(0, 2), harvest);
     c.due(18, "growth is still told", x.about(0, 12), 23 * weekly);
@@ -169,6 +174,12 @@ public final class WeeksTest {
     x.go(10);
     c.due(18, "what would be above is lost", x.about(0, 2), 99999);
     c.due(18, "oats by four, cut", x.about(0, 3), 249);
+    NoSummer z = Check.world(0);
+    z.holder(0, 0, 0);
+    z.field(0, 1);
+    z.gives(0, 0, 1);
+    z.go(14);
+    c.due(18, "one sown grows, too", z.about(0, 12), -10);
     NoSummer y = Check.world(0);
     y.holder(0, 0, 0);
     y.field(0, 3);
@@ -230,6 +241,17 @@ public final class WeeksTest {
     x.gives(0, 2, 5);
     c.due(18, "at 19: three cost six", x.go(1), 7);
     c.due(18, "rounded up", x.about(0, 4), 0);
+    x.gives(0, 0, 9);
+    x.gives(0, 2, 2);
+    c.due(18, "it buys the one that it lacks", x.go(1), 0);
+    c.due(18, "for 1.9, rounded up", x.about(0, 4), 0);
+    NoSummer w = Check.world(0);
+    w.holder(1, 0, 30);
+    w.holder(2, 0, 0);
+    w.gives(0, 2, 20);
+    w.gives(1, 0, 100);
+    c.due(18, "ten for its twenty coins", w.go(1), 20);
+    c.due(18, "no coin left", w.about(0, 4), 0);
     NoSummer y = Check.world(0, 0);
     y.holder(5, 0, 21);
     y.holder(2, 1, 0);
@@ -333,10 +355,10 @@ public final class WeeksTest {
 
   private static void horses() {
     NoSummer x = Check.world(0);
-    int[] oats = {5, 2, 0, 4};
-    int[] had = {3, 5, 1, 7};
-    int[] have = {3, 4, 1, 6};
-    for (int i = 0; i < 4; i++) {
+    int[] oats = {5, 2, 0, 3, 0};
+    int[] had = {3, 5, 1, 7, 2};
+    int[] have = {3, 4, 1, 5, 1};
+    for (int i = 0; i < 5; i++) {
       x.holder(i, 0, 0);
       x.gives(i, 3, had[i]);
       if (oats[i] > 0) {
@@ -344,7 +366,7 @@ public final class WeeksTest {
       }
     }
     x.go(1);
-    for (int i = 0; i < 4; i++) {
+    for (int i = 0; i < 5; i++) {
       c.due(18, "horses of " + i, x.about(i, 5), have[i]);
       c.due(18, "oats of " + i, x.about(i, 3), Math.max(0, oats[i] - had[i]));
     }
@@ -376,6 +398,9 @@ public final class WeeksTest {
     y.go(26);
     c.due(18, "ill are mouths at most", y.about(0, 8), 7);
     c.due(18, "seven ill, none dies", y.about(0, 6), 7);
+    y.gives(0, 0, 6);
+    c.due(18, "one is hungry", y.go(1), 1);
+    c.due(18, "one more by four is none, and none is well again", y.about(0, 8), 7);
     y.gives(0, 0, 7);
     y.go(1);
     c.due(18, "seven halved, cut", y.about(0, 8), 3);
@@ -405,6 +430,8 @@ public final class WeeksTest {
     x.road(2, 1, 14);
     x.go(1);
     c.due(18, "the shorter way now", x.about(0, 1), 2);
+    x.go(1);
+    c.due(18, "to district 0", x.about(0, 1), 0);
   }
 
   private static void walkersAtBorders() {
