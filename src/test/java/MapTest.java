@@ -80,6 +80,7 @@ public final class MapTest {
     c.due(4, "a road less", x.far(0, 3), 26);
     x.road(2, 3, 0);
     c.due(4, "cut off", x.far(0, 3), -4);
+    c.due(4, "over district 0", x.far(2, 1), 35);
   }
 
   private static void weather() {

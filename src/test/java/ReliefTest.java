@@ -14,6 +14,7 @@ public final class ReliefTest {
     turningRefusals();
     turnedRefusals();
     behind();
+    behindByWeather();
     behindRefusals();
     worst();
     worstWithNews();
@@ -330,6 +331,21 @@ public final class ReliefTest {
     c.due(29, "nor the laws", x.record(2, 12), 2 + 4 + 8);
   }
 
+  /** Land 1 shuts behind land 0 when corn is cheap there, as after a harvest. */
+  private static void behindByWeather() {
+    NoSummer x = Check.world(1);
+    x.holder(0, 0, 0);
+    x.field(0, 10);
+    x.gives(0, 0, 10);
+    x.force(1, 0, Check.law(x, "r>0&p<20"));
+    Check.steadyWeather(x, 1, 0, 5);
+    x.go(20);
+    x.field(0, 0);
+    Check.steadyWeather(x, 1, 1, 5);
+    c.due(29, "ahead of the harvest", x.behind(0, 16), 0);
+    c.due(29, "behind the harvest, by weather as it is", x.behind(0, 17), 2);
+  }
+
   private static void behindRefusals() {
     NoSummer x = new NoSummer();
     c.due(29, "land 4", x.behind(4, 1), -1);
@@ -365,7 +381,7 @@ public final class ReliefTest {
     x = farmBeforeHarvest(5, 2);
     c.due(30, "3 less warm at a height: no harvest", x.worst(0, 0, -1, 30), 2);
     x = farmBeforeHarvest(3, 0);
-    c.due(30, "3 less warm than 3", x.worst(0, 0, -1, 30), 2);
+    c.due(30, "3 less warm than 3", x.worst(0, 0, -1, 26), 2);
     x = farmBeforeHarvest(5, 0);
     c.due(30, "3 less warm: harvest enough", x.worst(0, 0, -1, 30), 0);
     x.go(15);
