@@ -374,6 +374,16 @@ public final class ReliefTest {
     return x;
   }
 
+  /** A town of ten with coin, and a store with 20 to sell, if it must. */
+  private static NoSummer townAndStore() {
+    NoSummer x = Check.world(0);
+    x.holder(1, 0, 10);
+    x.holder(3, 0, 0);
+    x.gives(0, 2, 1000);
+    x.gives(1, 0, 120);
+    return x;
+  }
+
   private static void worst() {
     NoSummer x = farmBeforeHarvest(2, 0);
     c.due(30, "to the week ahead of the harvest", x.worst(0, 0, -1, 25), 0);
@@ -397,11 +407,7 @@ public final class ReliefTest {
     c.due(30, "the third", y.worst(0, 0, -1, 3), 80);
     c.due(30, "the second", y.worst(0, 0, -1, 2), 10);
     c.due(30, "the first", y.worst(0, 0, -1, 1), 0);
-    NoSummer z = Check.world(0);
-    z.holder(1, 0, 10);
-    z.holder(3, 0, 0);
-    z.gives(0, 2, 1000);
-    z.gives(1, 0, 120);
+    NoSummer z = townAndStore();
     Check.law(z, "k=3");
     Check.law(z, "k=2");
     c.due(30, "none: the store keeps it", z.worst(0, 2, -1, 2), 10);
@@ -460,11 +466,7 @@ public final class ReliefTest {
   }
 
   private static void best() {
-    NoSummer x = Check.world(0);
-    x.holder(1, 0, 10);
-    x.holder(3, 0, 0);
-    x.gives(0, 2, 1000);
-    x.gives(1, 0, 120);
+    NoSummer x = townAndStore();
     c.due(31, "no laws: none", x.best(0, 2, 2), -4);
     Check.law(x, "k=2");
     c.due(31, "of several the first: none", x.best(0, 2, 2), -4);
@@ -477,27 +479,15 @@ public final class ReliefTest {
     x.force(0, 2, 2);
     c.due(31, "whatever is in force", x.best(0, 2, 2), 1);
     c.due(31, "it is still in force", x.force(0, 2, -1), 2);
-    NoSummer w = Check.world(0);
-    w.holder(1, 0, 10);
-    w.holder(3, 0, 0);
-    w.gives(0, 2, 1000);
-    w.gives(1, 0, 120);
+    NoSummer w = townAndStore();
     Check.law(w, "k=3");
     c.due(31, "law 0", w.best(0, 2, 2), 0);
-    NoSummer y = Check.world(0);
-    y.holder(1, 0, 10);
-    y.holder(3, 0, 0);
-    y.gives(0, 2, 1000);
-    y.gives(1, 0, 120);
+    NoSummer y = townAndStore();
     for (int i = 0; i < 8; i++) {
       Check.law(y, i == 7 ? "c>100" : "1=2");
     }
     c.due(31, "law 7", y.best(0, 2, 2), 7);
-    NoSummer z = Check.world(0);
-    z.holder(1, 0, 10);
-    z.holder(3, 0, 0);
-    z.gives(0, 2, 1000);
-    z.gives(1, 0, 120);
+    NoSummer z = townAndStore();
     for (int i = 0; i < 9; i++) {
       Check.law(z, i == 8 ? "c>100" : "1=2");
     }
