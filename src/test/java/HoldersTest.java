@@ -6,10 +6,13 @@ public final class HoldersTest {
     holders();
     room();
     gifts();
+    giftsOfEachKind();
     fields();
     goals();
     needs();
+    needsAtTheEnds();
     about();
+    aboutAllKinds();
     c.end("HoldersTest");
   }
 
@@ -42,6 +45,12 @@ public final class HoldersTest {
     c.due(8, "no room", x.holder(1, 0, 0), -2);
     c.due(8, "-1 ahead of -2", x.holder(1, 1, 0), -1);
     c.due(8, "thirty", x.count(1), 30);
+    c.due(12, "the last", x.about(29, 0), 1);
+    c.due(12, "none behind it", x.about(30, 0), -1);
+    c.due(9, "the last", x.gives(29, 0, 3), 3);
+    c.due(9, "none behind it", x.gives(30, 0, 3), -1);
+    c.due(35, "the last", x.keep(0, 1, 29), 0);
+    c.due(35, "none behind it", x.keep(0, 1, 30), -1);
   }
 
   private static void gifts() {
@@ -69,6 +78,27 @@ public final class HoldersTest {
     c.due(9, "no such what", x.gives(0, -1, 1), -1);
     c.due(9, "0", x.gives(0, 1, 0), -1);
     c.due(9, "10000, and -1 ahead of -2", x.gives(0, 0, 10000), -1);
+  }
+
+  private static void giftsOfEachKind() {
+    NoSummer x = Check.world(0);
+    x.holder(5, 0, 0);
+    for (int what = 0; what < 3; what++) {
+      c.due(9, "1 of " + what, x.gives(0, what, 1), 1);
+      for (int i = 1; i <= 10; i++) {
+        c.due(9, "9999 of " + what, x.gives(0, what, 9999), i < 10 ? 1 + 9999 * i : 99991);
+      }
+      c.due(9, "above 99999 of " + what, x.gives(0, what, 9), -2);
+      c.due(9, "refused, as it was", x.about(0, 2 + what), 99991);
+      c.due(9, "99999 of " + what, x.gives(0, what, 8), 99999);
+      c.due(9, "one more of " + what, x.gives(0, what, 1), -2);
+    }
+    c.due(9, "9999 horses", x.gives(0, 3, 9999), -2);
+    c.due(9, "1000 horses", x.gives(0, 3, 1000), -2);
+    c.due(9, "999 horses", x.gives(0, 3, 999), 999);
+    c.due(9, "one more horse", x.gives(0, 3, 1), -2);
+    c.due(9, "0 horses, -1 ahead of -2", x.gives(0, 3, 0), -1);
+    c.due(9, "less than none", x.gives(0, 3, -1), -1);
   }
 
   private static void fields() {
@@ -109,6 +139,12 @@ public final class HoldersTest {
     c.due(11, "-1 ahead of -3", x.goal(2, 2, 0), -1);
     c.due(11, "31 weeks", x.goal(0, 1, 31), -1);
     c.due(11, "-1 weeks", x.goal(0, 1, -1), -1);
+    c.due(11, "a walker, -1 weeks", x.goal(1, 1, -1), -1);
+    c.due(11, "neither, -1 weeks", x.goal(2, 1, -1), -1);
+    c.due(11, "no district", x.goal(0, 2, 1), -1);
+    c.due(11, "no holder", x.goal(-1, 0, 0), -1);
+    c.due(11, "its goal as it was", x.about(0, 14), 1);
+    c.due(11, "its weeks as they were", x.about(0, 13), 0);
     c.due(11, "no district", x.goal(0, -1, 1), -1);
     c.due(11, "no holder", x.goal(3, 0, 0), -1);
   }
@@ -125,6 +161,45 @@ public final class HoldersTest {
       c.due(12, "need of kind " + kind, x.about(kind, 9), need[kind]);
       c.due(12, "keeps of kind " + kind, x.about(kind, 10), keeps[kind]);
     }
+  }
+
+  /** Need and keeps of each kind with these mouths; the farm's field is 0. */
+  private static void needsWith(int mouths, int[] need, int[] keeps) {
+    NoSummer x = Check.world(0);
+    for (int kind = 0; kind < 6; kind++) {
+      x.holder(kind, 0, mouths);
+      c.due(12, "need of kind " + kind + " with " + mouths, x.about(kind, 9), need[kind]);
+      c.due(12, "keeps of kind " + kind + " with " + mouths, x.about(kind, 10), keeps[kind]);
+    }
+  }
+
+  private static void needsAtTheEnds() {
+    needsWith(0, new int[] {0, 0, 0, 0, 0, 0}, new int[] {0, 0, 0, 100, 0, 0});
+    needsWith(1, new int[] {1, 1, 1, 0, 0, 0}, new int[] {4, 4, 0, 100, 0, 0});
+    needsWith(2, new int[] {3, 2, 2, 0, 1, 1}, new int[] {12, 8, 0, 100, 0, 4});
+    needsWith(999, new int[] {1498, 999, 999, 0, 499, 499}, new int[] {5992, 3996, 0, 100, 0, 1996});
+    NoSummer x = Check.world(0);
+    x.holder(0, 0, 0);
+    x.field(0, 999);
+    c.due(12, "keeps of a field of 999", x.about(0, 10), 7992);
+  }
+
+  private static void aboutAllKinds() {
+    NoSummer x = Check.world(0, 0);
+    for (int kind = 0; kind < 6; kind++) {
+      x.holder(kind, 1, 3);
+      for (int what = 11; what <= 15; what++) {
+        c.due(12, what + " of kind " + kind, x.about(kind, what), what == 14 ? -4 : 0);
+      }
+      c.due(12, "what 16 of kind " + kind, x.about(kind, 16), -1);
+      c.due(12, "what -1 of kind " + kind, x.about(kind, -1), -1);
+    }
+    x.goal(5, 0, 0);
+    c.due(12, "an aim in district 0", x.about(5, 14), 0);
+    c.due(12, "a walker has no weeks to go", x.about(5, 13), 0);
+    x.goal(4, 0, 7);
+    c.due(12, "a goal in district 0", x.about(4, 14), 0);
+    c.due(12, "weeks to go", x.about(4, 13), 7);
   }
 
   private static void about() {

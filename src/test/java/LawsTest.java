@@ -5,11 +5,13 @@ public final class LawsTest {
   public static void main(String[] args) {
     faults();
     depth();
+    depthOfWork();
     faultRefusals();
     laws();
     force();
     holds();
     fields();
+    kinds();
     mayRefusals();
     shut();
     c.end("LawsTest");
@@ -91,6 +93,18 @@ public final class LawsTest {
     fault("(p=1|".repeat(8) + "w<3" + shut, -4);
   }
 
+  /** At each of eight depths something of OR and of AND waits. */
+  private static void depthOfWork() {
+    String in = "0=1|1=1&(".repeat(8);
+    String out = ")".repeat(8);
+    may(in + "0=1|1=1&1<0+2" + out, 1);
+    may(in + "0=1|1=1&1<0+1" + out, 0);
+    may(in + "0=1|1=1&2-1-1=0" + out, 1);
+    fault(in + "(0=1)" + out, 9 * 8);
+    fault("p=1&((((((((" + "(p=1", 12);
+    fault("p=1|(p=1)&((((((((p=1)))))))))", 29);
+  }
+
   private static void faultRefusals() {
     NoSummer x = Check.world(0);
     x.holder(1, 0, 1);
@@ -103,6 +117,10 @@ public final class LawsTest {
     c.due(13, "shorts", x.fault(0), -12);
     x.row(0, 2, 3);
     c.due(13, "ints", x.fault(0), -12);
+    x.row(0, 0, 0);
+    c.due(13, "an empty text ends too early", x.fault(0), 0);
+    c.due(14, "-100 less 0", x.law(0), -100);
+    c.due(14, "no shelf, though it would be a fault", x.law(9), -1);
   }
 
   private static void laws() {
@@ -211,6 +229,20 @@ public final class LawsTest {
     x.go(26);
     x.go(26);
     c.due(16, "the season of week 53", x.may(5, 0, -1), 1);
+  }
+
+  private static void kinds() {
+    NoSummer x = Check.world(0);
+    for (int kind = 0; kind < 6; kind++) {
+      x.holder(kind, 0, 0);
+      x.row(0, 0, 3);
+      x.put(0, 0, 'k');
+      x.put(0, 1, '=');
+      x.put(0, 2, '0' + kind);
+      c.due(14, "its number", x.law(0), kind);
+      c.due(16, "kind " + kind, x.may(kind, 0, kind), 1);
+      c.due(16, "another kind", x.may(kind, 0, kind == 0 ? -1 : 0), kind == 0 ? 1 : 0);
+    }
   }
 
   private static void mayRefusals() {

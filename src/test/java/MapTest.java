@@ -5,10 +5,12 @@ public final class MapTest {
   public static void main(String[] args) {
     newObject();
     districts();
+    tenDistricts();
     roads();
     ways();
     weather();
     missingWeather();
+    missingAtTheEnds();
     prices();
     c.end("MapTest");
   }
@@ -49,6 +51,23 @@ public final class MapTest {
     c.due(2, "ten", x.count(0), 10);
   }
 
+  private static void tenDistricts() {
+    NoSummer x = Check.world(0, 1, 2, 3, 0, 1, 2, 3, 0, 1);
+    c.due(3, "the last two", x.road(8, 9, 30), 0);
+    c.due(3, "no eleventh", x.road(9, 10, 1), -1);
+    c.due(4, "the last two", x.far(9, 8), 30);
+    c.due(4, "no eleventh", x.far(10, 9), -1);
+    c.due(4, "no eleventh", x.far(9, 10), -1);
+    c.due(7, "the last", x.price(9), 20);
+    c.due(7, "no eleventh", x.price(10), -1);
+    for (int d = 0; d < 8; d++) {
+      x.road(d, d + 1, 30);
+    }
+    c.due(4, "all roads in a row", x.far(0, 9), 270);
+    c.due(2, "refused, none came", x.district(0, 0), -2);
+    c.due(4, "nor did ways change", x.far(9, 0), 270);
+  }
+
   private static void roads() {
     NoSummer x = Check.world(0, 0, 1);
     c.due(3, "first", x.road(0, 1, 7), 0);
@@ -59,7 +78,10 @@ public final class MapTest {
     c.due(3, "31 leagues", x.road(0, 1, 31), -1);
     c.due(3, "-1 leagues", x.road(0, 1, -1), -1);
     c.due(3, "no such a", x.road(3, 1, 5), -1);
+    c.due(3, "no such a", x.road(-1, 1, 5), -1);
+    c.due(3, "no such b", x.road(0, 3, 5), -1);
     c.due(3, "no such b", x.road(0, -1, 5), -1);
+    c.due(3, "one twice, that isn't there", x.road(3, 3, 5), -1);
     c.due(3, "refused changes nothing", x.road(0, 1, 2), 1);
   }
 
@@ -75,6 +97,7 @@ public final class MapTest {
     c.due(4, "on from there", x.far(3, 0), 21);
     c.due(4, "no way", x.far(0, 4), -4);
     c.due(4, "no such", x.far(0, 5), -1);
+    c.due(4, "to itself, no such", x.far(5, 5), -1);
     c.due(4, "no such", x.far(-1, 0), -1);
     x.road(1, 2, 0);
     c.due(4, "a road less", x.far(0, 3), 26);
@@ -145,6 +168,32 @@ public final class MapTest {
     x.weather(0, 0, false);
     c.due(6, "the next land has no row", x.sky(0, 0, false), 0);
     c.due(6, "the least byte is no missing short", x.sky(0, 1, false), -128);
+  }
+
+  /** Behind its end a row has 0, which isn't missing; what is missing is looked for by weeks. */
+  private static void missingAtTheEnds() {
+    NoSummer x = new NoSummer();
+    x.row(0, 0, 160);
+    x.put(0, 4, -128);
+    x.put(0, 5, -128);
+    x.put(0, 156, -128);
+    x.weather(0, 0, false);
+    x.weather(3, 0, true);
+    x.row(0, 2, 5);
+    x.put(0, 4, 44);
+    x.weather(1, 0, false);
+    x.row(0, 1, 157);
+    x.put(0, 5, 55);
+    x.put(0, 156, 66);
+    x.weather(2, 0, false);
+    x.weather(0, 0, true);
+    c.due(6, "its last element, of another sort", x.sky(0, 4, false), 44);
+    c.due(6, "behind the end of the next: 0, no further", x.sky(0, 5, false), 0);
+    c.due(6, "the last week", x.sky(0, 156, false), 0);
+    c.due(6, "from 3 on to 0", x.sky(3, 5, true), 55);
+    c.due(6, "from 3 on to 0, the last week", x.sky(3, 156, true), 66);
+    c.due(6, "another week of the one on to it", x.sky(3, 4, true), 0);
+    c.due(6, "warm isn't wet", x.sky(3, 5, false), 0);
   }
 
   private static void prices() {

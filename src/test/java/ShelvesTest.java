@@ -3,6 +3,7 @@ public final class ShelvesTest {
   private static final Check c = new Check();
 
   public static void main(String[] args) {
+    atFirst();
     keep();
     rows();
     puts();
@@ -21,6 +22,27 @@ public final class ShelvesTest {
       x.holder(kind, kind, 9);
     }
     return x;
+  }
+
+  private static void atFirst() {
+    NoSummer x = allKinds();
+    for (int d = 0; d < 8; d++) {
+      c.due(40, "nothing on shelf " + d, x.weight(d), -11);
+      c.due(41, "nothing on shelf " + d, x.toss(d), -11);
+      c.due(37, "nothing on shelf " + d, x.put(d, 0, 1), -11);
+      c.due(38, "nothing on shelf " + d, Check.elementThrows(x, d, 0), 2);
+      c.due(13, "nothing on shelf " + d, x.fault(d), -11);
+      c.due(35, "nothing once more", x.keep(d, 0, 0), 0);
+      c.due(36, "a row on shelf " + d, x.row(d, 2, d), 0);
+    }
+    for (int d = 0; d < 8; d++) {
+      c.due(37, "its last element", x.put(d, d - 1, 100 + d), d == 0 ? -13 : 0);
+      c.due(37, "one behind it", x.put(d, d, 1), -13);
+      c.due(38, "one behind it", Check.elementThrows(x, d, d), 2);
+    }
+    for (int d = 1; d < 8; d++) {
+      c.due(38, "each shelf has its own", x.element(d, d - 1), 100 + d);
+    }
   }
 
   private static void keep() {
@@ -45,7 +67,11 @@ public final class ShelvesTest {
     NoSummer x = allKinds();
     c.due(36, "none", x.row(0, 0, 0), 0);
     c.due(36, "160", x.row(0, 2, 160), 0);
-    c.due(36, "161", x.row(0, 2, 161), -1);
+    for (int sort = 0; sort < 3; sort++) {
+      c.due(36, "161 of sort " + sort, x.row(0, sort, 161), -1);
+      c.due(36, "the least below 0", x.row(0, sort, Integer.MIN_VALUE), -14);
+    }
+    c.due(36, "the most", x.row(0, 0, Integer.MAX_VALUE), -1);
     c.due(36, "-1 long", x.row(0, 0, -1), -14);
     c.due(36, "as it was", x.put(0, 159, 1), 0);
     c.due(36, "sort 3", x.row(0, 3, 1), -1);
