@@ -6,23 +6,36 @@ public final class WeeksTest {
     goRefusals();
     shutLands();
     shutInTheWeek();
+    shutByPrice();
+    letInTheWeek();
     sowing();
+    sowingAheadOfEating();
     growth();
+    growthOfMissingWeather();
     harvestBounds();
+    oatsAheadOfHorses();
     ships();
     eating();
     buying();
     buyingInOrder();
+    buyingOfEach();
     whoMustSell();
     hungerByNeed();
+    noNeedNoHunger();
     horses();
     illness();
+    illnessAtTheEdges();
     walkers();
+    walkersEatFirst();
     walkersAtBorders();
     pricesByOffer();
     pricesWithShips();
+    whoAsks();
+    offersOfTheWeek();
+    pricesBehindTheOtherSteps();
     priceBounds();
     records();
+    districtsThen();
     readings();
     c.end("WeeksTest");
   }
@@ -33,6 +46,7 @@ public final class WeeksTest {
     c.due(18, "go(0)", x.go(0), -1);
     c.due(18, "go(27)", x.go(27), -1);
     c.due(18, "go(-1)", x.go(-1), -1);
+    c.due(18, "the most", x.go(Integer.MAX_VALUE), -1);
     c.due(18, "nothing went by", x.count(3), 0);
     for (int i = 0; i < 5; i++) {
       c.due(18, "go(26)", x.go(26), 5);
@@ -84,6 +98,46 @@ public final class WeeksTest {
     c.due(18, "r is of this week", x.go(1), 0);
     c.due(18, "ten at 19", x.about(0, 4), 81);
     c.due(18, "to the store", x.about(1, 4), 19);
+  }
+
+  /** A law of shutting knows no holder, but the price of the land's first district. */
+  private static void shutByPrice() {
+    NoSummer x = Check.world(2, 1, 1);
+    x.holder(1, 1, 7);
+    x.holder(1, 0, 7);
+    x.gives(0, 0, 500);
+    x.force(1, 0, Check.law(x, "p>19&c+o+g+m+h+k=0&b=1"));
+    x.force(2, 0, Check.law(x, "p>20&c+o+g+m+h+k=0&b=2"));
+    x.force(3, 0, Check.law(x, "p=0&b=3"));
+    x.go(2);
+    c.due(18, "19 falls behind, 23 comes", x.record(0, 12), 2 + 8);
+    c.due(18, "in the week after", x.record(1, 12), 4 + 8);
+  }
+
+  private static void letInTheWeek() {
+    NoSummer x = Check.world(0, 1);
+    x.road(0, 1, 3);
+    x.holder(5, 0, 4);
+    x.goal(0, 1, 0);
+    x.force(3, 0, Check.law(x, "w=1"));
+    x.force(1, 3, Check.law(x, "r=1&p>22&w=1&k=5"));
+    x.go(1);
+    c.due(18, "no land is shut yet", x.about(0, 1), 0);
+    x.go(1);
+    c.due(18, "r is of this week, p of where it is", x.about(0, 1), 1);
+  }
+
+  private static void sowingAheadOfEating() {
+    NoSummer x = Check.world(0);
+    x.holder(0, 0, 10);
+    x.field(0, 20);
+    x.gives(0, 0, 150);
+    c.due(18, "ten weeks of 15", x.go(10), 0);
+    c.due(18, "none left", x.about(0, 2), 0);
+    x.gives(0, 0, 25);
+    c.due(18, "20 sown, 5 eaten, a lack of 10 by 2", x.go(1), 5);
+    c.due(18, "sown", x.about(0, 11), 20);
+    c.due(18, "eaten", x.about(0, 2), 0);
   }
 
   private static void sowing() {
@@ -159,6 +213,65 @@ public final class WeeksTest {
     grows(0, 0, -5, -9, 0);
     grows(0, Integer.MAX_VALUE, Integer.MAX_VALUE, 0, 0);
     grows(9, Integer.MIN_VALUE + 1, Integer.MIN_VALUE + 1, -9, 0);
+  }
+
+  private static void growthOfMissingWeather() {
+    NoSummer x = new NoSummer();
+    x.district(1, 2);
+    x.holder(0, 0, 0);
+    x.field(0, 20);
+    x.gives(0, 0, 20);
+    x.row(0, 0, 15);
+    x.put(0, 12, -128);
+    x.put(0, 13, -128);
+    x.put(0, 14, 8);
+    x.weather(1, 0, false);
+    x.row(0, 1, 15);
+    x.put(0, 12, 9);
+    x.put(0, 13, -32768);
+    x.weather(2, 0, false);
+    x.row(0, 2, 15);
+    x.put(0, 13, 4);
+    x.weather(3, 0, false);
+    x.row(0, 0, 15);
+    x.put(0, 12, 5);
+    x.put(0, 13, -128);
+    x.put(0, 14, 7);
+    x.weather(1, 0, true);
+    x.go(13);
+    c.due(18, "9 of land 2, less 2", x.about(0, 12), 7);
+    x.go(1);
+    c.due(18, "4 of land 3, less 2, less 5 off 0", x.about(0, 12), 7 + 2 - 5);
+    x.go(1);
+    c.due(18, "8 less 2, less 2 off 5", x.about(0, 12), 4 + 6 - 2);
+    x.go(1);
+    c.due(18, "behind the ends: 0, less 5", x.about(0, 12), 8 - 5);
+  }
+
+  private static void oatsAheadOfHorses() {
+    NoSummer x = Check.world(0);
+    x.holder(0, 0, 0);
+    x.field(0, 23);
+    x.go(26);
+    x.go(4);
+    x.gives(0, 3, 4);
+    x.go(1);
+    c.due(18, "oats grow with nothing sown, four are eaten", x.about(0, 3), 1);
+    c.due(18, "so no horse dies", x.about(0, 5), 4);
+    c.due(18, "nothing was sown", x.about(0, 11), 0);
+    for (int i = 0; i < 10; i++) {
+      x.gives(0, 1, 9998);
+    }
+    x.go(26);
+    x.gives(0, 1, 99999 - x.about(0, 3));
+    for (int i = 0; i < 25; i++) {
+      x.go(1);
+      x.gives(0, 1, 4);
+    }
+    c.due(18, "ahead of week 82", x.count(3), 30 + 52);
+    c.due(18, "full", x.about(0, 3), 99999);
+    x.go(1);
+    c.due(18, "what would be above is lost, then four are eaten", x.about(0, 3), 99995);
   }
 
   private static void harvestBounds() {
@@ -304,6 +417,36 @@ public final class WeeksTest {
     c.due(18, "corn in all", x.count(5), 17);
   }
 
+  /** A town of ten buys of a dealer, a farm, a ship, each of which has a part of its need. */
+  private static void buyingOfEach() {
+    NoSummer x = Check.world(0);
+    x.holder(2, 0, 0);
+    x.holder(4, 0, 0);
+    x.holder(0, 0, 0);
+    x.holder(1, 0, 10);
+    x.gives(0, 0, 3);
+    x.gives(1, 0, 4);
+    x.gives(2, 0, 9);
+    x.gives(3, 2, 100);
+    c.due(18, "3, 4 and 3", x.go(1), 0);
+    c.due(18, "the dealer first, though a farm is of a lower kind", x.about(0, 4), 6);
+    c.due(18, "then the ship", x.about(1, 4), 8);
+    c.due(18, "then the farm what lacks still", x.about(2, 4), 6);
+    c.due(18, "which keeps the rest", x.about(2, 2), 6);
+    c.due(18, "paid", x.about(3, 4), 80);
+    NoSummer y = Check.world(0);
+    y.holder(1, 0, 10);
+    y.holder(2, 0, 0);
+    y.holder(2, 0, 0);
+    y.gives(0, 2, 3);
+    y.gives(1, 0, 1);
+    y.gives(2, 0, 50);
+    c.due(18, "one of the first for 2, then none for 1", y.go(1), 9);
+    c.due(18, "one coin is left", y.about(0, 4), 1);
+    c.due(18, "two came in", y.about(1, 4), 2);
+    c.due(18, "none to the second", y.about(2, 4), 0);
+  }
+
   /** Hungry of a town of ten when only a seller of a kind has corn, under a law or none. */
   private static int hungryBeside(int kind, String law, int land) {
     NoSummer x = Check.world(0);
@@ -351,6 +494,20 @@ public final class WeeksTest {
     x.gives(0, 0, 4);
     x.go(1);
     c.due(18, "no lack", x.about(0, 7), 0);
+  }
+
+  private static void noNeedNoHunger() {
+    NoSummer x = Check.world(0);
+    x.holder(3, 0, 999);
+    for (int kind = 0; kind < 6; kind++) {
+      x.holder(kind, 0, 0);
+    }
+    x.holder(5, 0, 1);
+    c.due(18, "a store has no need, nor has who has no mouths", x.go(1), 0);
+    for (int i = 0; i < 8; i++) {
+      c.due(18, "not hungry: " + i, x.about(i, 7), 0);
+      c.due(18, "not ill: " + i, x.about(i, 8), 0);
+    }
   }
 
   private static void horses() {
@@ -404,6 +561,62 @@ public final class WeeksTest {
     y.gives(0, 0, 7);
     y.go(1);
     c.due(18, "seven halved, cut", y.about(0, 8), 3);
+  }
+
+  /** Ill of a town without corn after a week; its mouths are these less who died. */
+  private static void illAfter(int mouths, int ill, int died) {
+    NoSummer x = Check.world(0);
+    x.holder(1, 0, mouths);
+    c.due(18, "all hungry of " + mouths, x.go(1), mouths);
+    c.due(18, "ill of " + mouths, x.about(0, 8), ill);
+    c.due(18, "died of " + mouths, x.about(0, 15), died);
+    c.due(18, "mouths of " + mouths, x.about(0, 6), mouths - died);
+    c.due(18, "hungry as they were of " + mouths, x.about(0, 7), mouths);
+    c.due(34, "died of " + mouths, x.count(10), died);
+  }
+
+  private static void illnessAtTheEdges() {
+    illAfter(3, 0, 0);
+    illAfter(4, 1, 0);
+    illAfter(7, 1, 0);
+    illAfter(8, 2, 0);
+    illAfter(31, 7, 0);
+    illAfter(32, 7, 1);
+    illAfter(63, 14, 1);
+    illAfter(64, 14, 2);
+    illAfter(999, 218, 31);
+    NoSummer x = Check.world(0);
+    x.holder(1, 0, 8);
+    x.go(3);
+    c.due(18, "2 more a week", x.about(0, 8), 6);
+    c.due(18, "8 of 8 are ill, one dies", x.go(1), 8);
+    c.due(18, "seven ill", x.about(0, 8), 7);
+    c.due(18, "of seven", x.about(0, 6), 7);
+    x.go(1);
+    c.due(18, "7 and 1: mouths at most", x.about(0, 8), 7);
+    c.due(18, "so none dies", x.about(0, 6), 7);
+    x.gives(0, 0, 70);
+    x.go(1);
+    c.due(18, "halved, cut", x.about(0, 8), 3);
+    x.go(1);
+    c.due(18, "halved, cut", x.about(0, 8), 1);
+    x.go(1);
+    c.due(18, "none", x.about(0, 8), 0);
+  }
+
+  /** Walkers buy where they are, then go on. */
+  private static void walkersEatFirst() {
+    NoSummer x = Check.world(0, 0);
+    x.road(0, 1, 30);
+    x.holder(5, 0, 20);
+    x.holder(2, 0, 0);
+    x.gives(0, 2, 100);
+    x.gives(1, 0, 100);
+    x.goal(0, 1, 0);
+    c.due(18, "fed where it was", x.go(1), 0);
+    c.due(18, "on by 30 leagues", x.about(0, 1), 1);
+    c.due(18, "paid", x.about(0, 4), 80);
+    c.due(18, "hungry where it is", x.go(1), 10);
   }
 
   private static void walkers() {
@@ -517,6 +730,52 @@ public final class WeeksTest {
     c.due(18, "where it lay it isn't", x.price(0), 20);
   }
 
+  private static void whoAsks() {
+    for (int kind = 0; kind < 6; kind++) {
+      NoSummer x = Check.world(0);
+      x.holder(kind, 0, 10);
+      x.go(1);
+      c.due(18, "asked by kind " + kind, x.price(0), kind == 1 || kind == 5 ? 23 : 20);
+    }
+  }
+
+  private static void offersOfTheWeek() {
+    NoSummer x = Check.world(0);
+    x.holder(1, 0, 10);
+    x.holder(2, 0, 20);
+    x.gives(1, 0, 40);
+    x.go(1);
+    c.due(18, "20 left is twice 10", x.price(0), 20);
+    x.go(1);
+    c.due(18, "none left, what was offered ahead doesn't count", x.price(0), 23);
+    NoSummer y = Check.world(0, 0);
+    y.holder(4, 0, 0);
+    y.holder(2, 0, 0);
+    y.holder(1, 1, 1);
+    y.goal(0, 1, 9);
+    y.gives(1, 0, 1);
+    y.go(1);
+    c.due(18, "one offered, behind a ship at sea", y.price(0), 19);
+    c.due(18, "one asked, behind both", y.price(1), 23);
+  }
+
+  private static void pricesBehindTheOtherSteps() {
+    NoSummer x = Check.world(0, 0);
+    x.road(0, 1, 5);
+    x.holder(5, 0, 2);
+    x.goal(0, 1, 0);
+    x.go(1);
+    c.due(18, "a walker asks where it went", x.price(1), 23);
+    c.due(18, "not where it was", x.price(0), 20);
+    NoSummer y = Check.world(0);
+    y.holder(1, 0, 80);
+    y.holder(2, 0, 0);
+    y.gives(1, 0, 156);
+    y.go(1);
+    c.due(18, "156 is twice what the 78 left ask", y.price(0), 20);
+    c.due(18, "two died", y.about(0, 15), 2);
+  }
+
   private static void priceBounds() {
     NoSummer x = Check.world(0);
     x.holder(1, 0, 7);
@@ -560,6 +819,30 @@ public final class WeeksTest {
     c.due(19, "it was there then", x.record(2, 2), 20);
   }
 
+  /** Two districts come later: what is recorded ahead of them knows neither. */
+  private static void districtsThen() {
+    NoSummer x = Check.world(0);
+    x.holder(1, 0, 7);
+    x.go(2);
+    x.district(1, 0);
+    x.district(2, 0);
+    x.road(0, 1, 9);
+    x.road(0, 2, 9);
+    c.due(19, "the first there was", x.record(1, 0), 26);
+    c.due(19, "the next came later", x.record(1, 1), -1);
+    c.due(19, "so did the one behind it", x.record(1, 2), -1);
+    c.due(19, "in the first week, too", x.record(0, 2), -1);
+    c.due(19, "this week didn't go by", x.record(2, 1), -3);
+    c.due(20, "not there then", x.read(0, 1), 20);
+    c.due(20, "nor was the one behind it", x.read(0, 2), 20);
+    x.holder(1, 2, 7);
+    x.go(1);
+    c.due(19, "there then", x.record(2, 2), 23);
+    c.due(20, "there then", x.read(0, 2), 23);
+    c.due(20, "as it was", x.read(0, 1), 20);
+    c.due(19, "still not there then", x.record(1, 2), -1);
+  }
+
   private static void readings() {
     NoSummer x = Check.world(0, 0, 0, 0);
     x.road(0, 1, 9);
@@ -575,6 +858,8 @@ public final class WeeksTest {
     c.due(20, "week 1", x.read(2, 0), 26);
     c.due(20, "no way", x.read(3, 0), -3);
     c.due(20, "no such", x.read(4, 0), -1);
+    c.due(20, "no such", x.read(-1, 0), -1);
+    c.due(20, "no such", x.read(0, 4), -1);
     c.due(20, "no such", x.read(0, -1), -1);
     x.holder(1, 3, 7);
     x.district(0, 0);
