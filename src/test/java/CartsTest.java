@@ -7,10 +7,15 @@ public final class CartsTest {
     sendsRefusals();
     shutLandsSendNone();
     soldToTowns();
+    tenLeaguesAWeek();
     broughtBack();
+    lostAbove();
     oatsAndLoad();
+    eatenAhead();
     severalOnTheirWay();
+    oneBehindTheOther();
     pricesPaid();
+    offeredAtOnce();
     twelveAtMost();
     brings();
     c.end("CartsTest");
@@ -130,6 +135,125 @@ public final class CartsTest {
     c.due(18, "horses come back", y.about(0, 5), 1);
   }
 
+  /** Carts on their way after six weeks; 20 bushels for a town of seven at these leagues. */
+  private static NoSummer sixWeeks(int leagues) {
+    NoSummer x = markets(new int[] {leagues}, new int[] {7});
+    x.gives(0, 0, 20);
+    x.gives(0, 1, 100);
+    x.gives(0, 3, 2);
+    x.go(5);
+    c.due(18, "none goes in five weeks by " + leagues, x.count(4), 0);
+    c.due(18, "none came in five weeks by " + leagues, x.about(1, 2), 0);
+    x.go(1);
+    return x;
+  }
+
+  private static void tenLeaguesAWeek() {
+    // 32 as read in week 5 is the first price above 19 and 10 to 12.
+    NoSummer x = sixWeeks(10);
+    c.due(18, "10 leagues: none left in the same week", x.count(4), 0);
+    c.due(18, "so it arrived", x.about(1, 2), 20);
+    c.due(18, "horses are back", x.about(0, 5), 2);
+    NoSummer y = sixWeeks(11);
+    c.due(18, "11 leagues: on its way", y.count(4), 1);
+    c.due(22, "one league left", y.cart(0, 4), 1);
+    c.due(18, "nothing arrived", y.about(1, 2), 0);
+    c.due(18, "no horses yet", y.about(0, 5), 0);
+    y.go(1);
+    c.due(18, "in the next week", y.about(1, 2), 20);
+  }
+
+  /** Gives so much that a holder has 99999 of 0 corn, 1 oats or 2 coin. */
+  private static void fill(NoSummer x, int holder, int what) {
+    for (int i = 0; i < 11; i++) {
+      x.gives(holder, what, Math.min(9999, 99999 - x.about(holder, 2 + what)));
+    }
+    c.due(9, "filled", x.about(holder, 2 + what), 99999);
+  }
+
+  private static void lostAbove() {
+    NoSummer x = sixWeeks(12);
+    c.due(22, "on its way", x.cart(0, 2), 20);
+    fill(x, 0, 2);
+    fill(x, 1, 0);
+    x.gives(1, 2, 100);
+    x.go(1);
+    c.due(18, "corn of the town: seven eaten, the rest is lost", x.about(1, 2), 99999);
+    c.due(18, "coin of the dealer is lost", x.about(0, 4), 99999);
+    c.due(18, "and yet paid: 4 for each of 20", x.about(1, 4), 20);
+    NoSummer y = markets(new int[] {12}, new int[] {0});
+    y.holder(5, 1, 2);
+    y.gives(0, 0, 40);
+    y.gives(0, 1, 500);
+    y.gives(0, 3, 4);
+    y.go(6);
+    c.due(22, "on its way", y.cart(0, 2), 40);
+    fill(y, 0, 0);
+    c.due(34, "with the cart's", y.count(5), 99999 + 40);
+    y.go(1);
+    c.due(18, "corn that comes back is lost", y.about(0, 2), 99999);
+    c.due(34, "no cart any more", y.count(5), 99999);
+  }
+
+  private static void eatenAhead() {
+    NoSummer x = markets(new int[] {1}, new int[] {7});
+    x.gives(0, 0, 5);
+    x.go(1);
+    x.holder(2, 0, 10);
+    x.gives(2, 0, 25);
+    x.gives(2, 1, 6);
+    x.gives(2, 3, 5);
+    x.go(1);
+    c.due(18, "ten eaten, fifteen sent", x.about(1, 2), 15);
+    c.due(18, "none left", x.about(2, 2), 0);
+    c.due(18, "five oats eaten, one for the way", x.about(2, 3), 0);
+    c.due(18, "all horses are back", x.about(2, 5), 5);
+    c.due(18, "no horses, no cart", x.about(0, 2), 5);
+  }
+
+  private static void oneBehindTheOther() {
+    NoSummer x = markets(new int[] {22}, new int[] {7});
+    x.holder(2, 0, 0);
+    x.gives(0, 0, 500);
+    x.gives(0, 1, 500);
+    x.gives(0, 3, 3);
+    x.gives(2, 0, 17);
+    x.gives(2, 1, 500);
+    // 45 as read in week 9 is the first price above 19 and 22.
+    x.go(10);
+    c.due(22, "the first", x.count(4), 1);
+    x.gives(2, 3, 2);
+    x.go(1);
+    int[][] due = {{0, 1, 30, 3, 2}, {2, 1, 17, 2, 12}};
+    for (int i = 0; i < 2; i++) {
+      for (int part = 0; part < 5; part++) {
+        c.due(22, "part " + part + " of cart " + i, x.cart(i, part), due[i][part]);
+      }
+    }
+    c.due(22, "no third", x.cart(2, 0), -1);
+    c.due(34, "horses of both", x.count(8), 5);
+    c.due(34, "corn of both", x.count(5), 517);
+    x.go(1);
+    due[1][4] = 2;
+    for (int part = 0; part < 5; part++) {
+      c.due(22, "the second is the first now", x.cart(0, part), due[1][part]);
+    }
+    c.due(22, "no second", x.cart(1, 0), -1);
+    c.due(18, "the first arrived", x.about(1, 2), 30);
+  }
+
+  private static void offeredAtOnce() {
+    for (int corn = 41; corn <= 43; corn++) {
+      NoSummer x = markets(new int[] {1}, new int[] {7});
+      x.gives(0, 0, corn);
+      x.gives(0, 1, 50);
+      x.gives(0, 3, 5);
+      x.go(2);
+      c.due(18, "arrived", x.about(1, 2), corn);
+      c.due(18, "above 28, that it keeps, " + (corn - 28), x.price(1), corn - 28 < 14 ? 26 : 23);
+    }
+  }
+
   private static void broughtBack() {
     NoSummer x = markets(new int[] {12}, new int[] {0});
     x.holder(5, 1, 2);
@@ -229,6 +353,16 @@ public final class CartsTest {
     c.due(18, "2 for each of 20", x.about(0, 4), 40);
     c.due(18, "the town pays", x.about(1, 4), 460);
     c.due(18, "the town has them", x.about(1, 2), 20);
+    NoSummer y = markets(new int[] {1}, new int[] {7});
+    y.gives(0, 1, 50);
+    y.gives(1, 2, 500);
+    y.go(12);
+    c.due(7, "price there", y.price(1), 76);
+    y.gives(0, 0, 20);
+    y.gives(0, 3, 2);
+    y.go(1);
+    c.due(18, "7 for each of 20", y.about(0, 4), 140);
+    c.due(18, "the town pays", y.about(1, 4), 360);
   }
 
   private static void twelveAtMost() {
@@ -279,6 +413,11 @@ public final class CartsTest {
     c.due(23, "100 horses", x.brings(0, 1, 100), -1);
     c.due(23, "-1 ahead of -3", x.brings(0, 3, 100), -1);
     c.due(23, "no such", x.brings(4, 1, 1), -1);
+    c.due(23, "no such", x.brings(-1, 1, 1), -1);
+    c.due(23, "no such", x.brings(1, 4, 1), -1);
+    c.due(23, "1 horse by 30 leagues", x.brings(1, 2, 1), 7);
+    c.due(23, "99 horses by 12 leagues", x.brings(0, 1, 99), 990 - 119);
+    c.due(23, "less than no horse", x.brings(0, 1, -1), -1);
     c.due(23, "no such", x.brings(0, -1, 1), -1);
     NoSummer y = Check.world(0, 0, 0, 0, 0, 0);
     for (int i = 0; i < 5; i++) {
