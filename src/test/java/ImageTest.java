@@ -28,27 +28,9 @@ public final class ImageTest {
   }
 
   private static void allThatThereIs() {
-    NoSummer x = Check.world(0, 1);
-    x.road(0, 1, 12);
-    x.holder(2, 0, 0);
-    x.holder(1, 1, 80);
-    x.holder(4, 0, 6);
-    x.holder(5, 0, 2);
-    x.holder(0, 0, 1);
-    x.field(4, 9);
-    x.goal(2, 1, 20);
-    x.goal(3, 1, 0);
-    x.force(1, 3, Check.law(x, "1=2"));
-    x.gives(0, 0, 300);
-    x.gives(0, 1, 200);
-    x.gives(0, 3, 3);
-    x.gives(4, 0, 90);
-    Check.steadyWeather(x, 0, 7, 4);
-    x.go(6);
-    c.due(32, "a cart is on its way", x.count(4), 1);
+    NoSummer x = Check.busyWorld();
     x.row(0, 0, 4);
     x.keep(1, 1, 0);
-    long[] then = told(x);
     c.due(32, "now", x.image(), 6);
     x.district(2, 3);
     x.road(0, 1, 3);
@@ -66,9 +48,10 @@ public final class ImageTest {
     x.go(26);
     x.go(26);
     c.due(33, "now", x.restore(), 6);
-    long[] now = told(x);
-    for (int i = 0; i < then.length; i++) {
-      c.due(33, "what is told at " + i, now[i], then[i]);
+    long[] now = Check.told(x);
+    long[] due = Check.told(Check.busyWorld());
+    for (int i = 0; i < due.length; i++) {
+      c.due(33, "what is told at " + i, now[i], due[i]);
     }
     c.due(33, "the shelves are as they are", x.element(0, 2), 5);
     c.due(33, "the shelves are as they are", x.weight(1), 100 + 1 + 1);
@@ -114,41 +97,6 @@ public final class ImageTest {
     c.due(33, "sown", x.about(0, 11), 8);
     c.due(33, "growth", x.about(0, 12), 8 * 9);
     c.due(33, "corn", x.about(0, 2), 1);
-  }
-
-  private static long[] told(NoSummer x) {
-    long[] all = new long[260];
-    int n = 0;
-    for (int what = 0; what <= 10; what++) {
-      all[n++] = x.count(what);
-    }
-    for (int h = 0; h < 6; h++) {
-      for (int what = 0; what < 16; what++) {
-        all[n++] = x.about(h, what);
-      }
-    }
-    for (int d = 0; d < 3; d++) {
-      all[n++] = x.price(d);
-      all[n++] = x.far(0, d);
-      all[n++] = x.read(0, d);
-    }
-    for (int week = 0; week < 7; week++) {
-      for (int what = 0; what < 13; what++) {
-        all[n++] = x.record(week, what);
-      }
-    }
-    for (int part = 0; part < 5; part++) {
-      all[n++] = x.cart(0, part);
-    }
-    for (int land = 0; land < 4; land++) {
-      all[n++] = x.sky(land, 9, false);
-      all[n++] = x.sky(land, 9, true);
-      all[n++] = x.shut(land);
-      all[n++] = x.worst(land, 2, 0, 30);
-      all[n++] = x.behind(land, 3);
-    }
-    all[n++] = x.may(1, 0, 0);
-    return all;
   }
 
   private static void kindsChange() {

@@ -5,6 +5,7 @@ public final class ReliefTest {
   public static void main(String[] args) {
     reliefByRanks();
     reliefByLaw();
+    reliefOfMany();
     reliefRefusals();
     coin();
     turn();
@@ -17,6 +18,7 @@ public final class ReliefTest {
     behindByWeather();
     behindRefusals();
     worst();
+    worstByWeatherAsItIs();
     worstWithNews();
     worstRefusals();
     best();
@@ -89,6 +91,27 @@ public final class ReliefTest {
     c.due(24, "and yet given", x.about(0, 4), 1000 - 210 - 100);
   }
 
+  /** Twelve towns of 1 to 6 mouths, each size twice, the lesser first. */
+  private static void reliefOfMany() {
+    NoSummer x = Check.world(3);
+    for (int i = 0; i < 12; i++) {
+      x.holder(1, 0, 1 + i / 2);
+    }
+    x.holder(3, 0, 0);
+    x.gives(12, 2, 9999);
+    x.go(1);
+    c.due(24, "6, 6, 5, 5, 4 and one of the other 4", x.relief(12, 270), 27);
+    int[] due = {0, 0, 0, 0, 0, 0, 40, 10, 50, 50, 60, 60};
+    for (int i = 0; i < 12; i++) {
+      c.due(24, "coin of " + i, x.about(i, 4), due[i]);
+      c.due(24, "hungry as before: " + i, x.about(i, 7), 1 + i / 2);
+    }
+    c.due(24, "the rest", x.about(12, 4), 9999 - 270);
+    c.due(24, "all that are hungry", x.relief(12, 9999 - 270), 42);
+    c.due(24, "what was too much", x.about(12, 4), 9999 - 270 - 420);
+    c.due(34, "no coin is lost", x.count(7), 9999);
+  }
+
   private static void reliefRefusals() {
     NoSummer x = hungryTowns();
     x.gives(1, 2, 500);
@@ -116,6 +139,14 @@ public final class ReliefTest {
     c.due(25, "bread at 23", x.coin(0, 101, 0), 43);
     c.due(25, "seed at 23", x.coin(0, 101, 2), 258);
     c.due(25, "9999 at 23", x.coin(0, 9999, 0), 4347);
+    c.due(25, "seed of 9999 at 23", x.coin(0, 9999, 2), 26082);
+    c.due(25, "wage of 9999", x.coin(0, 9999, 1), 3333);
+    c.due(25, "wage of 2", x.coin(0, 2, 1), 0);
+    c.due(25, "wage of 3", x.coin(0, 3, 1), 1);
+    c.due(25, "bread of 2 at 23", x.coin(0, 2, 0), 0);
+    c.due(25, "bread of 3 at 23", x.coin(0, 3, 0), 1);
+    c.due(25, "seed of 2 at 23", x.coin(0, 2, 2), 0);
+    c.due(25, "-1", x.coin(0, -1, 1), -1);
     c.due(25, "none", x.coin(0, 0, 0), -1);
     c.due(25, "10000", x.coin(0, 10000, 0), -1);
     c.due(25, "as 3", x.coin(0, 1, 3), -1);
@@ -151,8 +182,16 @@ public final class ReliefTest {
     c.due(26, "it arrived", x.about(0, 1), 0);
     c.due(26, "it can't be turned any more", x.turn(0, 1, 0), -3);
     x.goal(0, 0, 30);
+    c.due(26, "word 30 for 30 weeks", x.turn(0, 2, 30), -3);
     c.due(26, "beyond 30", x.turn(0, 2, 29), 33);
     c.due(26, "word 30", x.turn(0, 0, 30), 36);
+    x.goal(0, 0, 1);
+    c.due(26, "one week, word 1", x.turn(0, 1, 1), -3);
+    c.due(26, "one week, word 0", x.turn(0, 1, 0), 2);
+    x.road(0, 1, 9);
+    c.due(26, "9 by 10: none more", x.turn(0, 0, 0), 2);
+    x.road(0, 1, 10);
+    c.due(26, "10 by 10", x.turn(0, 1, 0), 3);
   }
 
   private static void ship(NoSummer x, int number, int corn, int goal, int weeks) {
@@ -422,6 +461,36 @@ public final class ReliefTest {
     z.force(0, 2, 0);
     c.due(30, "none in the place of it", z.worst(0, 2, -1, 2), 10);
     c.due(30, "it is still in force", z.force(0, 2, 1), 0);
+  }
+
+  /**
+   * Where only a full harvest makes corn so cheap that land 0 is shut, and a store sells only
+   * while no land is shut: the greater hunger is by the warmer weather.
+   */
+  private static void worstByWeatherAsItIs() {
+    NoSummer x = Check.world(0, 1);
+    x.holder(0, 0, 0);
+    x.field(0, 10);
+    x.gives(0, 0, 10);
+    Check.steadyWeather(x, 0, 9, 5);
+    x.force(0, 0, Check.law(x, "p<20"));
+    x.force(1, 2, Check.law(x, "k=3&r=0"));
+    x.go(26);
+    x.go(4);
+    // 103 are reaped, or 96 by colder weeks, of which a farm with this field keeps 96.
+    x.field(0, 12);
+    x.holder(1, 1, 10);
+    x.holder(3, 1, 0);
+    x.gives(1, 2, 1000);
+    x.gives(2, 0, 200);
+    c.due(30, "until the harvest", x.worst(2, 0, -1, 6), 0);
+    c.due(30, "behind it, by weather as it is", x.worst(2, 0, -1, 7), 10);
+    x.field(0, 13);
+    c.due(30, "if all is kept", x.worst(2, 0, -1, 10), 0);
+    x.field(0, 12);
+    x.go(7);
+    c.due(30, "so it comes", x.about(1, 7), 10);
+    c.due(19, "land 0 is shut", x.record(36, 12), 1);
   }
 
   /** A town that has corn until a cart comes, if the news of its prices is known. */
