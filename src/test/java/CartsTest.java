@@ -304,8 +304,14 @@ public final class CartsTest {
     x.gives(2, 0, 500);
     x.gives(2, 1, 500);
     x.gives(2, 3, 5);
+    for (int kind = 0; kind < 6; kind++) {
+      int other = x.holder(kind == 2 ? 4 : kind, 0, 0);
+      for (int what = 0; what < 4; what++) {
+        x.gives(other, what, 500);
+      }
+    }
     x.go(1);
-    c.due(18, "the dealer's cart, no store's", x.count(4), 1);
+    c.due(18, "the dealer's cart, no store's, no ship's", x.count(4), 1);
     c.due(22, "of the dealer", x.cart(0, 0), 0);
   }
 
@@ -385,6 +391,8 @@ public final class CartsTest {
       c.due(22, "leagues left", x.cart(i, 4), 20);
     }
     c.due(22, "no cart 12", x.cart(12, 0), -1);
+    c.due(21, "how many carts are on their way isn't looked at", x.sends(12), 1);
+    c.due(21, "nor whether it has horses", x.sends(0), 1);
     c.due(18, "the last one waits", x.about(12, 5), 1);
     x.gives(0, 3, 1);
     x.go(1);

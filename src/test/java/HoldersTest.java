@@ -114,6 +114,13 @@ public final class HoldersTest {
     c.due(10, "no holder", x.field(2, 0), -1);
     c.due(10, "no holder", x.field(-1, 0), -1);
     c.due(10, "kept", x.field(0, 5), 5);
+    for (int kind = 0; kind < 6; kind++) {
+      NoSummer y = Check.world(0);
+      y.holder(kind, 0, 4);
+      c.due(10, "of kind " + kind, y.field(0, 999), kind == 0 ? 0 : -3);
+      c.due(11, "goal of kind " + kind, y.goal(0, 0, 0), kind < 4 ? -3 : 1);
+      c.due(11, "weeks of kind " + kind, y.goal(0, 0, 30), kind < 4 ? -3 : kind == 4 ? 1 : -1);
+    }
   }
 
   private static void goals() {

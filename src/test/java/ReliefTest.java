@@ -124,6 +124,13 @@ public final class ReliefTest {
     c.due(24, "none", x.relief(0, 0), -1);
     c.due(24, "10000", x.relief(0, 10000), -1);
     c.due(24, "-1 ahead of -3", x.relief(1, 0), -1);
+    for (int kind = 0; kind < 6; kind++) {
+      NoSummer y = Check.world(0);
+      y.holder(kind, 0, 0);
+      y.gives(0, 2, 10);
+      c.due(24, "by kind " + kind, y.relief(0, 10), kind == 3 ? 0 : -3);
+      c.due(26, "kind " + kind + " is turned", y.turn(0, 0, 0), kind == 4 ? -3 : -1);
+    }
     c.due(24, "no holder", x.relief(8, 1), -1);
     c.due(24, "no holder", x.relief(-1, 1), -1);
   }
@@ -164,6 +171,8 @@ public final class ReliefTest {
     c.due(26, "it lies", x.turn(0, 1, 0), -3);
     x.goal(0, 0, 6);
     c.due(26, "the word comes too late", x.turn(0, 1, 6), -3);
+    c.due(26, "later still", x.turn(0, 1, 7), -3);
+    c.due(26, "much later", x.turn(0, 1, 30), -3);
     c.due(26, "19 by 10, cut", x.turn(0, 1, 5), 7);
     c.due(26, "its goal", x.about(0, 14), 1);
     c.due(26, "its weeks", x.about(0, 13), 7);
@@ -181,6 +190,7 @@ public final class ReliefTest {
     x.go(11);
     c.due(26, "it arrived", x.about(0, 1), 0);
     c.due(26, "it can't be turned any more", x.turn(0, 1, 0), -3);
+    c.due(26, "nor by a later word", x.turn(0, 1, 3), -3);
     x.goal(0, 0, 30);
     c.due(26, "word 30 for 30 weeks", x.turn(0, 2, 30), -3);
     c.due(26, "beyond 30", x.turn(0, 2, 29), 33);
@@ -217,6 +227,8 @@ public final class ReliefTest {
     c.due(27, "a word too late for the first", x.turning(0, 5), 200);
     c.due(28, "the first keeps its goal", x.turned(0, 5, 0), 0);
     c.due(27, "a word too late for both", x.turning(0, 9), 200);
+    c.due(27, "later still", x.turning(0, 30), 200);
+    c.due(28, "the first keeps its goal still", x.turned(0, 30, 0), 0);
     Check.list(x, 1, 2);
     c.due(27, "another list", x.turning(1, 4), 250);
     Check.list(x, 2, 0, 0, 0);
@@ -380,6 +392,7 @@ public final class ReliefTest {
     Check.steadyWeather(x, 1, 0, 5);
     x.go(20);
     x.field(0, 0);
+    c.due(29, "no warmth, no harvest", x.behind(0, 17), 0);
     Check.steadyWeather(x, 1, 1, 5);
     c.due(29, "ahead of the harvest", x.behind(0, 16), 0);
     c.due(29, "behind the harvest, by weather as it is", x.behind(0, 17), 2);
