@@ -12,6 +12,7 @@ public final class ReliefTest {
     turning();
     turningOfSeveral();
     turningOfTheFirstFive();
+    turningByShortLists();
     turningRefusals();
     turnedRefusals();
     behind();
@@ -305,6 +306,31 @@ public final class ReliefTest {
     c.due(28, "the sixth is the fifth now", x.turned(0, 0, 6), 2);
   }
 
+  /** Most are served in district 0: but none goes there if the list doesn't tell it. */
+  private static void turningByShortLists() {
+    NoSummer x = Check.world(0, 0, 0, 0);
+    ship(x, 0, 300, 3, 9);
+    ship(x, 1, 300, 3, 8);
+    x.holder(1, 0, 20);
+    x.holder(1, 1, 1);
+    x.holder(1, 2, 2);
+    Check.list(x, 0, 1);
+    c.due(27, "one on the list", x.turning(0, 0), 10);
+    c.due(28, "the first keeps its goal", x.turned(0, 0, 0), 3);
+    c.due(28, "the second goes", x.turned(0, 0, 1), 1);
+    Check.list(x, 0, 1, 2);
+    c.due(27, "two on the list", x.turning(0, 0), 30);
+    c.due(28, "the first to the first", x.turned(0, 0, 0), 1);
+    c.due(28, "the second to the second", x.turned(0, 0, 1), 2);
+    Check.list(x, 0, 1, 2, 0);
+    c.due(27, "three on the list", x.turning(0, 0), 220);
+    c.due(28, "the first to the second", x.turned(0, 0, 0), 2);
+    c.due(28, "the second to the third", x.turned(0, 0, 1), 0);
+    c.due(27, "a word too late for the second", x.turning(0, 8), 200);
+    c.due(28, "the first to the third", x.turned(0, 8, 0), 0);
+    c.due(28, "the second as it was", x.turned(0, 8, 1), 3);
+  }
+
   private static void turningRefusals() {
     NoSummer x = Check.world(0, 1);
     ship(x, 0, 10, 0, 5);
@@ -345,6 +371,9 @@ public final class ReliefTest {
     c.due(28, "-1 ahead of -11", x.turned(1, 0, 1), -1);
     c.due(28, "nothing", x.turned(1, 0, 0), -11);
     c.due(28, "-4 ahead of -11", x.turned(1, 0, 2), -4);
+    c.due(28, "no shelf, -1 ahead of -4", x.turned(8, 0, 2), -1);
+    c.due(28, "no shelf, -1 ahead of -4", x.turned(-1, 0, 2), -1);
+    c.due(28, "word 31, -1 ahead of -4", x.turned(0, 31, 2), -1);
     x.keep(1, 1, 0);
     c.due(28, "a holder", x.turned(1, 0, 0), -12);
     x.row(1, 2, 1);
